@@ -1,0 +1,114 @@
+/** Counts what is as due, prints what is not, and helps the tests to build farms and to look at them. */
+final class Check {
+    private static int right;
+    private static int wrong;
+
+    private Check() {
+    }
+
+    static void same(String what, long got, long due) {
+        if (got == due) {
+            right++;
+        } else {
+            wrong++;
+            System.out.println(what + ": " + got + ", due is " + due);
+        }
+    }
+
+    static void same(String what, String got, String due) {
+        if (got.equals(due)) {
+            right++;
+        } else {
+            wrong++;
+            System.out.println(what + ": " + got + ", due is " + due);
+        }
+    }
+
+    /** The call throws an exception of exactly this class. */
+    static void fails(String what, Class<? extends RuntimeException> due, Runnable call) {
+        same(what, nameOfThrown(call), due.getSimpleName());
+    }
+
+    /** The call throws an exception of exactly this class, and all that can be asked stays as it was. */
+    static void failsAndKeeps(HarvestBoxes x, String what, Class<? extends RuntimeException> due, Runnable call) {
+        String before = pictureOf(x);
+        fails(what, due, call);
+        same(what + " changes nothing", pictureOf(x), before);
+    }
+
+    /** No call of these changes anything that can be asked. */
+    static void keeps(HarvestBoxes x, String what, Runnable calls) {
+        String before = pictureOf(x);
+        calls.run();
+        same(what + " changes nothing", pictureOf(x), before);
+    }
+
+    private static String nameOfThrown(Runnable call) {
+        try {
+            call.run();
+            return "nothing";
+        } catch (RuntimeException e) {
+            return e.getClass().getSimpleName();
+        }
+    }
+
+    static HarvestBoxes withText(String text) {
+        HarvestBoxes x = new HarvestBoxes();
+        write(x, text);
+        return x;
+    }
+
+    static void write(HarvestBoxes x, String text) {
+        x.clearText();
+        for (int i = 0; i < text.length(); i++) {
+            x.append(text.charAt(i));
+        }
+    }
+
+    static HarvestBoxes farm(String text) {
+        HarvestBoxes x = withText(text);
+        x.load();
+        return x;
+    }
+
+    /** All that can be asked without a change, but for what the remembered states and the save slots hold. */
+    static String pictureOf(HarvestBoxes x) {
+        StringBuilder picture = new StringBuilder("text ").append(x.errorPosition());
+        for (int what = 0; what <= 9; what++) {
+            picture.append(what == 0 ? "; about " : " ").append(x.about(what));
+        }
+        for (int h = 0; h < x.about(0); h++) {
+            picture.append("; house");
+            for (int what = 0; what <= 6; what++) {
+                picture.append(' ').append(x.house(h, what));
+            }
+        }
+        for (int v = 0; v < x.about(1); v++) {
+            picture.append("; vegetable");
+            for (int what = 0; what <= 3; what++) {
+                picture.append(' ').append(x.vegetable(v, what));
+            }
+        }
+        for (int h = 0; h < x.about(0); h++) {
+            for (int v = 0; v < x.about(1); v++) {
+                picture.append(' ').append(x.liking(h, v)).append('*').append(x.box(h, v));
+            }
+        }
+        return picture.toString();
+    }
+
+    static void boxes(HarvestBoxes x, String what, int[][] due) {
+        for (int h = 0; h < due.length; h++) {
+            for (int v = 0; v < due[h].length; v++) {
+                same(what + ": box(" + h + ", " + v + ")", x.box(h, v), due[h][v]);
+            }
+        }
+    }
+
+    static void end(String test) {
+        System.out.println(test + ": " + right + " as due, " + wrong + " not");
+        if (wrong != 0 || right == 0) {
+            System.exit(1);
+        }
+    }
+}
