@@ -399,8 +399,7 @@ public final class HarvestBoxes {
             composted = new int[MOST_VEGETABLES];
             likings = new int[CELLS];
             kilos = new int[CELLS];
-            // Houses and vegetables never go, so a liking that waits here is still the first one when they come.
-            Arrays.fill(likings, FIRST_LIKING);
+            clear();
         }
 
         void clear() {
@@ -416,6 +415,7 @@ public final class HarvestBoxes {
             Arrays.fill(skipping, 0);
             Arrays.fill(harvest, 0);
             Arrays.fill(composted, 0);
+            // Houses and vegetables never go, so a liking that waits here is still the first one when they come.
             Arrays.fill(likings, FIRST_LIKING);
             Arrays.fill(kilos, 0);
         }

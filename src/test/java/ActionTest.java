@@ -40,6 +40,10 @@ public final class ActionTest {
         Check.failsAndKeeps(x, "a seventh house", BAD_STATE, () -> x.addHouse(1));
         Check.fails("a seventh house, the range first", BAD_ARGUMENT, () -> x.addHouse(5));
         Check.fails("a seventh house, the range first", BAD_ARGUMENT, () -> x.addHouse(0));
+        HarvestBoxes fresh = new HarvestBoxes();
+        fresh.addHouse(1);
+        fresh.addVegetable(1);
+        Check.same("the first liking without a text", fresh.liking(0, 0), 5);
         x.setLiking(5, 0, 9);
         x.undo();
         Check.same("undo of addHouse", x.undo(), 5);

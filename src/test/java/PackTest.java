@@ -23,6 +23,7 @@ public final class PackTest {
     private static void shares() {
         Check.boxes(packed("Fh10h20h40v14v00v40", 0), "by sizes", new int[][] {{2, 0, 6}, {4, 0, 12}, {8, 0, 22}});
         Check.boxes(packed("Fh30v17", 0), "one house", new int[][] {{17}});
+        Check.boxes(packed("Fh10v05l000", 0), "what is shared is no glut", new int[][] {{5}});
         Check.boxes(packed("Fh10h20s1h13v09", 0), "one gets a box", new int[][] {{9}, {0}, {0}});
         Check.boxes(packed("Fh12h13v09", 0), "two crates are no hindrance", new int[][] {{9}, {0}});
     }
@@ -62,6 +63,11 @@ public final class PackTest {
         Check.same("the harvest is gone", x.vegetable(0, 0), 0);
         Check.same("the credit of one that skips", x.house(0, 2), 1);
         Check.same("no credit for one that owes", x.house(1, 2), 0);
+        HarvestBoxes full = packed("Fh10v12", 0);
+        full.skip(0, true);
+        full.pack();
+        Check.same("the box of the week before is empty", full.box(0, 0), 0);
+        Check.same("and eaten", full.about(4), 12);
         HarvestBoxes empty = packed("Fv40", 0);
         Check.same("without houses", empty.vegetable(0, 2), 40);
         Check.same("without anything", packed("F", 0).about(2), 1);

@@ -28,6 +28,7 @@ public final class ScriptTest {
             Check.fails("the least script", BAD_ARGUMENT, () -> x.runScript(commands, Long.MIN_VALUE));
             Check.fails("the greatest script", BAD_ARGUMENT, () -> x.runScript(commands, Long.MAX_VALUE));
         }
+        Check.fails("no commands", BAD_ARGUMENT, () -> x.runScript(0, 0));
         Check.fails("5 digits", BAD_ARGUMENT, () -> x.runScript(1, 10000L));
         Check.fails("9 digits", BAD_ARGUMENT, () -> x.runScript(2, 100000000L));
         Check.fails("13 digits", BAD_ARGUMENT, () -> x.runScript(3, 1000000000000L));
@@ -107,7 +108,11 @@ public final class ScriptTest {
         script(x, 3, 4, 4000_4000_4000_9100L);
         script(x, NONE, 4, 4000_4000_4000_5030L);
         script(x, 2, 4, 4000_5010_5010_4000L);
-        script(x, NONE, 3, 2009_4000_7013L);
+        // House 0 gets 2 and 3 kilos: 10 + 15, and with a liking of 9 for the first one 18 + 15.
+        script(x, NONE, 2, 4000_7025L);
+        script(x, 1, 2, 4000_7026L);
+        script(x, NONE, 3, 2009_4000_7033L);
+        script(x, 2, 3, 2009_4000_7034L);
         HarvestBoxes y = Check.farm("Fh13h10v05");
         script(y, NONE, 3, 5010_4000_8003L);
         script(y, 1, 2, 4000_8001L);

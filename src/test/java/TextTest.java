@@ -16,6 +16,7 @@ public final class TextTest {
         promise4Limits();
         promise5();
         promise5ReplacesAll();
+        promise5BehindTrials();
         promise5Refuses();
         Check.end("TextTest");
     }
@@ -126,6 +127,7 @@ public final class TextTest {
         error("Fv41", 3);
         error("Fv49", 3);
         error("Fv3:", 3);
+        error("Fv3/", 3);
         farmIs("Fv40");
         farmIs("Fv00");
         farmIs("Fv39");
@@ -145,6 +147,8 @@ public final class TextTest {
         error("Fh10v00l01", 9);
         error("Fh10v00l00", 10);
         error("Fh10v00l00:", 10);
+        error("Fh10v00l00/", 10);
+        error("Fh10v00l0/", 9);
         error("Fh10v00l00h", 10);
         farmIs("Fh10v00l000");
         farmIs("Fh10v00l009");
@@ -162,6 +166,7 @@ public final class TextTest {
         error("Fh10s1", 5);
         error("Fh10s1h20", 5);
         error("Fh10s:", 5);
+        error("Fh10s/", 5);
         farmIs("Fh10s0");
         farmIs("Fh10s0s0");
         farmIs("Fh10s0h20s1");
@@ -221,6 +226,9 @@ public final class TextTest {
         x.pack();
         x.save(0);
         x.save(1);
+        x.setHarvest(0, 40);
+        // What was tried out last must not show in what is loaded.
+        x.simulate(1, 9);
         Check.same("load again", x.load(), 1);
         Check.same("load replaces everything", Check.pictureOf(x), fresh);
         Check.fails("load forgets the states", BAD_STATE, () -> x.undo());
@@ -229,6 +237,14 @@ public final class TextTest {
         Check.same("likings of a house that comes back", x.addHouse(1), 1);
         Check.same("likings of a vegetable that comes back", x.addVegetable(1), 1);
         Check.same("first liking", x.liking(1, 1), 5);
+    }
+
+    private static void promise5BehindTrials() {
+        String text = "Fh10h10v06v06l009l011l101l119";
+        HarvestBoxes x = Check.farm(text);
+        Check.same("a week with swaps, then a skip", x.runScript(2, 4000_3110L), HarvestBoxes.NONE);
+        x.load();
+        Check.same("what was tried out does not show", Check.pictureOf(x), Check.pictureOf(Check.farm(text)));
     }
 
     private static void promise5Refuses() {
