@@ -52,8 +52,8 @@ public final class HarvestBoxes {
         packer = new Packer();
         best = new Best();
         swap = new Swap();
-        scriptRunner = new ScriptRunner(trial, packer);
-        simulation = new Simulation(trial, packer);
+        scriptRunner = new ScriptRunner();
+        simulation = new Simulation();
     }
 
     // ---- text
@@ -288,14 +288,12 @@ public final class HarvestBoxes {
         if (script < 0 || ScriptRunner.withoutLast(script, n) > 0) {
             throw new IllegalArgumentException("the script has not the digits of so many commands");
         }
-        trial.copyFrom(now);
-        return scriptRunner.firstFailure(n, script);
+        return scriptRunner.firstFailure(now, n, script);
     }
 
     public int simulate(long seed, int m) throws IllegalArgumentException {
         needWithin(m, 1, MOST_SIMULATED_WEEKS);
-        trial.copyFrom(now);
-        return simulation.runWeeks(seed, m);
+        return simulation.runWeeks(now, seed, m);
     }
 
     // ---- save slots
@@ -737,26 +735,28 @@ public final class HarvestBoxes {
         }
 
         private void findBetween(Farm farm, int one, int other) {
+            int mine = one * MOST_VEGETABLES;
+            int theirs = other * MOST_VEGETABLES;
             for (int given = 0; given < farm.vegetables; given++) {
-                if (farm.kilos[cell(one, given)] > 0) {
-                    for (int taken = 0; taken < farm.vegetables; taken++) {
-                        keepIfBetter(farm, one, other, given, taken);
+                if (farm.kilos[mine + given] == 0) {
+                    continue;
+                }
+                for (int taken = 0; taken < farm.vegetables; taken++) {
+                    if (farm.kilos[theirs + taken] == 0) {
+                        continue;
+                    }
+                    int gainOfOne = farm.likings[mine + taken] - farm.likings[mine + given];
+                    int gainOfOther = farm.likings[theirs + given] - farm.likings[theirs + taken];
+                    boolean bothGain = gainOfOne > 0 && gainOfOther > 0;
+                    // Only a greater gain is kept: the swaps are looked at from the lowest one on.
+                    if (bothGain && gainOfOne + gainOfOther > gain) {
+                        a = one;
+                        b = other;
+                        v = given;
+                        w = taken;
+                        gain = gainOfOne + gainOfOther;
                     }
                 }
-            }
-        }
-
-        private void keepIfBetter(Farm farm, int one, int other, int given, int taken) {
-            int gainOfOne = farm.likings[cell(one, taken)] - farm.likings[cell(one, given)];
-            int gainOfOther = farm.likings[cell(other, given)] - farm.likings[cell(other, taken)];
-            boolean isSwap = farm.kilos[cell(other, taken)] > 0 && gainOfOne > 0 && gainOfOther > 0;
-            // Only a greater gain is kept: the swaps are looked at from the lowest one on.
-            if (isSwap && gainOfOne + gainOfOther > gain) {
-                a = one;
-                b = other;
-                v = given;
-                w = taken;
-                gain = gainOfOne + gainOfOther;
             }
         }
 
@@ -792,7 +792,8 @@ public final class HarvestBoxes {
             Arrays.fill(farm.kilos, 0);
             int allParts = tellParts(farm);
             for (int v = 0; v < farm.vegetables; v++) {
-                shareOut(farm, v, allParts);
+                int glut = dealShares(farm, v, allParts);
+                giveGlut(farm, v, glut);
             }
             farm.swaps = makeSwaps(farm);
             closeWeek(farm);
@@ -807,7 +808,7 @@ public final class HarvestBoxes {
             return sum;
         }
 
-        private void shareOut(Farm farm, int v, int allParts) {
+        private int dealShares(Farm farm, int v, int allParts) {
             int left = farm.harvest[v];
             if (allParts > 0) {
                 for (int h = 0; h < farm.houses; h++) {
@@ -816,7 +817,7 @@ public final class HarvestBoxes {
                     left -= share;
                 }
             }
-            giveGlut(farm, v, left);
+            return left;
         }
 
         private void giveGlut(Farm farm, int v, int glut) {
@@ -867,16 +868,16 @@ public final class HarvestBoxes {
         }
     }
 
-    /** Runs the commands of a script on the farm that it was made for. */
+    /** Runs the commands of a script on a copy of a farm. */
     private static final class ScriptRunner {
         private static final int GROUP = 10000;
 
         private final Farm farm;
         private final Packer packer;
 
-        ScriptRunner(Farm farm, Packer packer) {
-            this.farm = farm;
-            this.packer = packer;
+        ScriptRunner() {
+            farm = new Farm();
+            packer = new Packer();
         }
 
         static long withoutLast(long script, int groups) {
@@ -887,7 +888,8 @@ public final class HarvestBoxes {
             return rest;
         }
 
-        int firstFailure(int n, long script) {
+        int firstFailure(Farm start, int n, long script) {
+            farm.copyFrom(start);
             for (int i = 0; i < n; i++) {
                 int group = (int) (withoutLast(script, n - 1 - i) % GROUP);
                 if (!succeeds(group / 1000, group / 100 % 10, group / 10 % 10, group % 10)) {
@@ -902,7 +904,12 @@ public final class HarvestBoxes {
                 case 1: return setsHarvest(d2, 10 * d3 + d4);
                 case 2: return setsLiking(d2, d3, d4);
                 case 3: return d4 == 0 && setsSkip(d2, d3);
-                case 4: return d2 == 0 && d3 == 0 && d4 == 0 && packs();
+                case 4:
+                    if (d2 != 0 || d3 != 0 || d4 != 0) {
+                        return false;
+                    }
+                    packer.packWeek(farm);
+                    return true;
                 case 5: return d4 == 0 && returnsCrates(d2, d3);
                 case 6: return givesAway(d2, d3, d4);
                 case 7: return farm.hasHouse(d2) && farm.happinessOf(d2) >= 10 * d3 + d4;
@@ -940,11 +947,6 @@ public final class HarvestBoxes {
             return true;
         }
 
-        private boolean packs() {
-            packer.packWeek(farm);
-            return true;
-        }
-
         private boolean returnsCrates(int h, int n) {
             if (!farm.hasHouse(h) || n < 1 || farm.owed[h] < n) {
                 return false;
@@ -962,7 +964,7 @@ public final class HarvestBoxes {
         }
     }
 
-    /** Lets weeks pass on the farm that it was made for. */
+    /** Lets weeks pass on a copy of a farm. */
     private static final class Simulation {
         private static final long FACTOR = 6364136223846793005L;
         private static final long STEP = 1442695040888963407L;
@@ -971,12 +973,13 @@ public final class HarvestBoxes {
         private final Packer packer;
         private long x;
 
-        Simulation(Farm farm, Packer packer) {
-            this.farm = farm;
-            this.packer = packer;
+        Simulation() {
+            farm = new Farm();
+            packer = new Packer();
         }
 
-        int runWeeks(long seed, int m) {
+        int runWeeks(Farm start, long seed, int m) {
+            farm.copyFrom(start);
             x = seed;
             int compostedBefore = farm.compostedOfAll();
             int swaps = 0;

@@ -17,6 +17,7 @@ public final class FaceTest {
     public static void main(String[] args) {
         members();
         methods();
+        classesInside();
         Check.end("FaceTest");
     }
 
@@ -53,6 +54,34 @@ public final class FaceTest {
         Collections.sort(due);
         Collections.sort(got);
         Check.same("the methods", got.toString(), due.toString());
+    }
+
+    /** Rules 1 and 11 of LANGUAGE.md. */
+    private static void classesInside() {
+        Class<?>[] inside = HarvestBoxes.class.getDeclaredClasses();
+        Check.same("at most twelve classes", inside.length <= 11 ? 1 : 0, 1);
+        for (Class<?> one : inside) {
+            Check.same(one + " is static", one.getModifiers() & Modifier.STATIC, Modifier.STATIC);
+            Check.same(one + " is hidden", one.getModifiers() & (Modifier.PUBLIC | Modifier.PROTECTED), 0);
+            for (Method method : one.getDeclaredMethods()) {
+                Check.same(method + " bears no name of the face", countOf(method.getName()), 0);
+            }
+        }
+        fieldsAndParameters(HarvestBoxes.class);
+        for (Class<?> one : inside) {
+            fieldsAndParameters(one);
+        }
+    }
+
+    private static void fieldsAndParameters(Class<?> one) {
+        int fields = 0;
+        for (Field field : one.getDeclaredFields()) {
+            fields += Modifier.isStatic(field.getModifiers()) ? 0 : 1;
+        }
+        Check.same(one + " has at most twenty fields", fields <= 20 ? 1 : 0, 1);
+        for (Method method : one.getDeclaredMethods()) {
+            Check.same(method + " has at most seven parameters", method.getParameterCount() <= 7 ? 1 : 0, 1);
+        }
     }
 
     private static int countOf(String name) {
