@@ -227,8 +227,6 @@ public final class TextTest {
         x.save(0);
         x.save(1);
         x.setHarvest(0, 40);
-        // What was tried out last must not show in what is loaded.
-        x.simulate(1, 9);
         Check.same("load again", x.load(), 1);
         Check.same("load replaces everything", Check.pictureOf(x), fresh);
         Check.fails("load forgets the states", BAD_STATE, () -> x.undo());
@@ -240,11 +238,39 @@ public final class TextTest {
     }
 
     private static void promise5BehindTrials() {
-        String text = "Fh10h10v06v06l009l011l101l119";
+        String text = "Fh10h10h10v06v07l009l011l101l119s2";
         HarvestBoxes x = Check.farm(text);
-        Check.same("a week with swaps, then a skip", x.runScript(2, 4000_3110L), HarvestBoxes.NONE);
+        String fresh = Check.pictureOf(x);
+        Check.same("three swaps would be made", x.wouldBe(0), 54);
         x.load();
-        Check.same("what was tried out does not show", Check.pictureOf(x), Check.pictureOf(Check.farm(text)));
+        Check.same("those swaps do not show", Check.pictureOf(x), fresh);
+        x.setLiking(0, 1, 0);
+        x.setLiking(1, 1, 0);
+        x.pack();
+        x.give(0, 0, 1);
+        x.load();
+        Check.same("the week does not show", Check.pictureOf(x), fresh);
+        x.skip(0, true);
+        x.pack();
+        x.give(1, 0, 1);
+        x.setLiking(1, 1, 0);
+        x.setLiking(2, 1, 0);
+        x.skip(0, true);
+        x.setHarvest(0, 6);
+        x.setHarvest(1, 7);
+        // A week with swaps, eaten, given and composted kilos, and credits.
+        Check.same("what would be", x.wouldGet(0, 0), 0);
+        x.load();
+        Check.same("what would be does not show", Check.pictureOf(x), fresh);
+        x.runScript(3, 4000_6001_3110L);
+        x.simulate(1, 9);
+        x.load();
+        Check.same("what was tried out does not show", Check.pictureOf(x), fresh);
+        Check.write(x, text + "s0l228h49v40");
+        x.errorPosition();
+        Check.write(x, text);
+        x.load();
+        Check.same("a text that was looked at does not show", Check.pictureOf(x), fresh);
     }
 
     private static void promise5Refuses() {
