@@ -2,25 +2,38 @@
 final class Check {
     private static int right;
     private static int wrong;
+    private static String topic = "";
 
     private Check() {
     }
 
+    /** Stands ahead of what is printed from here on. */
+    static void topic(String words) {
+        topic = words;
+    }
+
+    static int compared() {
+        return right + wrong;
+    }
+
     static void same(String what, long got, long due) {
-        if (got == due) {
-            right++;
-        } else {
-            wrong++;
-            System.out.println(what + ": " + got + ", due is " + due);
-        }
+        count(what, Long.toString(got), Long.toString(due));
     }
 
     static void same(String what, String got, String due) {
+        count(what, got, due);
+    }
+
+    static void holds(String what, boolean is) {
+        count(what, is ? "yes" : "no", "yes");
+    }
+
+    private static void count(String what, String got, String due) {
         if (got.equals(due)) {
             right++;
         } else {
             wrong++;
-            System.out.println(what + ": " + got + ", due is " + due);
+            System.out.println(topic + what + ": " + got + ", due is " + due);
         }
     }
 
@@ -43,7 +56,7 @@ final class Check {
         same(what + " changes nothing", pictureOf(x), before);
     }
 
-    private static String nameOfThrown(Runnable call) {
+    static String nameOfThrown(Runnable call) {
         try {
             call.run();
             return "nothing";
@@ -73,26 +86,28 @@ final class Check {
 
     /** All that can be asked without a change, but for what the remembered states and the save slots hold. */
     static String pictureOf(HarvestBoxes x) {
-        StringBuilder picture = new StringBuilder("text ").append(x.errorPosition());
+        int houses = x.about(0);
+        int vegetables = x.about(1);
+        StringBuilder picture = new StringBuilder("text ").append(x.errorPosition()).append("; about");
         for (int what = 0; what <= 9; what++) {
-            picture.append(what == 0 ? "; about " : " ").append(x.about(what));
+            picture.append(' ').append(x.about(what));
         }
-        for (int h = 0; h < x.about(0); h++) {
+        for (int h = 0; h < houses; h++) {
             picture.append("; house");
             for (int what = 0; what <= 6; what++) {
                 picture.append(' ').append(x.house(h, what));
             }
         }
-        for (int v = 0; v < x.about(1); v++) {
+        for (int v = 0; v < vegetables; v++) {
             picture.append("; vegetable");
             for (int what = 0; what <= 3; what++) {
                 picture.append(' ').append(x.vegetable(v, what));
             }
         }
-        for (int h = 0; h < x.about(0); h++) {
-            for (int v = 0; v < x.about(1); v++) {
-                picture.append(' ').append(x.liking(h, v)).append('*').append(x.box(h, v));
-            }
+        for (int cell = 0; cell < houses * vegetables; cell++) {
+            int h = cell / vegetables;
+            int v = cell % vegetables;
+            picture.append(' ').append(x.liking(h, v)).append('*').append(x.box(h, v));
         }
         return picture.toString();
     }

@@ -41,9 +41,12 @@ public final class ModelTest {
         }
     }
 
+    /** A call on both, as long as the document promises an answer. */
     private void both(String call, IntSupplier ofProgram, IntSupplier ofModel) {
         calls++;
-        Check.same(call, answer(ofProgram), answer(ofModel));
+        if (calls <= CALLS) {
+            Check.same(call, answer(ofProgram), answer(ofModel));
+        }
     }
 
     private static String answer(IntSupplier call) {
@@ -68,11 +71,11 @@ public final class ModelTest {
     }
 
     private int aHouse() {
-        return about(Math.max(0, program.about(0) - 1));
+        return about(Math.max(0, model.about(0) - 1));
     }
 
     private int aVegetable() {
-        return about(Math.max(0, program.about(1) - 1));
+        return about(Math.max(0, model.about(1) - 1));
     }
 
     private void append(int c) {
@@ -206,8 +209,8 @@ public final class ModelTest {
     }
 
     private int group() {
-        int h = 100 * random.nextInt(Math.max(1, program.about(0)));
-        int v = random.nextInt(Math.max(1, program.about(1)));
+        int h = 100 * random.nextInt(Math.max(1, model.about(0)));
+        int v = random.nextInt(Math.max(1, model.about(1)));
         int n = random.nextInt(10);
         switch (random.nextInt(12)) {
             case 0, 1: return 1000 + 100 * v + random.nextInt(42);

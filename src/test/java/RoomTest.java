@@ -1,47 +1,64 @@
 import com.sun.management.ThreadMXBean;
 import java.lang.management.ManagementFactory;
+import java.util.function.IntUnaryOperator;
 
-/** A call that answers makes no objects: all rows are made by the constructor. */
+/**
+ * All calls of a run live in one room of 600,000 objects and arrays and 7.3 million fields and elements. What takes no
+ * more bytes than so many objects of the least size are within both.
+ */
 public final class RoomTest {
     private static final ThreadMXBean THREADS = (ThreadMXBean) ManagementFactory.getThreadMXBean();
-    private static final String TEXT = "Fh10h20h30h40h10h20v40v39v38v37v36l009l111l222l333l444l540l520l248l148l017";
+    private static final long ROOM = 600_000L * 16;
+    private static final int CALLS = 512;
+    /** Few enough for two calls each, behind the calls that make a full farm. */
+    private static final int ROUNDS = 150;
 
     public static void main(String[] args) {
-        HarvestBoxes x = Check.farm(TEXT);
-        // The first round loads what the Java machine itself needs.
-        allCalls(x, 1);
-        long before = bytes();
-        allCalls(x, 40);
-        long made = bytes() - before;
-        Check.same("bytes of 40 rounds, " + made, made < 4000 ? 1 : 0, 1);
-        Check.same("bytes of a new object", bytesOfNew() < 40000 ? 1 : 0, 1);
+        runs("simulate", x -> call -> x.simulate(call, 30));
+        runs("runScript", x -> call -> x.runScript(4, 4000_1040_4000_6011L));
+        runs("bestSkip", x -> call -> x.bestSkip());
+        runs("bestMore", x -> call -> x.bestMore());
+        runs("pack", x -> call -> x.setHarvest(call % 5, 40) + x.pack());
+        runs("undo", x -> call -> x.skip(call % 6, true) + x.undo());
+        runs("load", x -> call -> x.load() + x.errorPosition());
+        runs("save", x -> call -> x.save(call % 2) + x.restore(call % 2));
+        runs("ask", x -> call -> x.order(5) + x.house(5, 5));
         Check.end("RoomTest");
     }
 
-    private static long bytes() {
+    /** An object, ready to be called with a number. */
+    private interface Run {
+        IntUnaryOperator on(HarvestBoxes x);
+    }
+
+    /** The object itself, and as many of these calls as it can be used for. */
+    private static void runs(String what, Run run) {
+        // The first round loads what the Java machine itself needs.
+        bytesOfCalls(run);
+        long bytes = bytesOfNew() + bytesOfCalls(run) * CALLS / ROUNDS;
+        Check.holds(bytes + " bytes for calls of " + what + " are within the room", bytes < ROOM);
+    }
+
+    private static long bytesSoFar() {
         return THREADS.getThreadAllocatedBytes(Thread.currentThread().getId());
     }
 
     private static long bytesOfNew() {
-        long before = bytes();
+        long before = bytesSoFar();
         HarvestBoxes x = new HarvestBoxes();
-        long made = bytes() - before;
+        long made = bytesSoFar() - before;
         return x.about(0) == 0 ? made : Long.MAX_VALUE;
     }
 
-    private static void allCalls(HarvestBoxes x, int rounds) {
+    private static long bytesOfCalls(Run run) {
+        IntUnaryOperator call = run.on(Twins.full());
         int sum = 0;
-        for (int round = 0; round < rounds; round++) {
-            x.clearText();
-            for (int i = 0; i < TEXT.length(); i++) {
-                sum += x.append(TEXT.charAt(i));
-            }
-            sum += x.errorPosition() + x.load() + x.bestSkip() + x.bestMore() + x.wouldBe(1) + x.wouldGet(1, 1);
-            sum += x.simulate(round, 30) + x.runScript(4, 4000_1040_4000_6011L) + x.firstSwap() + x.save(0) + x.save(1);
-            sum += x.pack() + x.give(0, 0, 1) + x.returnCrates(0, 1) + x.setHarvest(0, 40) + x.setLiking(0, 0, 3);
-            sum += x.skip(0, true) + x.order(2) + x.about(3) + x.house(1, 5) + x.vegetable(1, 3) + x.box(1, 1);
-            sum += x.liking(1, 1) + x.undo() + x.restore(1) + x.pack() + x.pack();
+        long before = bytesSoFar();
+        for (int round = 0; round < ROUNDS; round++) {
+            sum += call.applyAsInt(round);
         }
-        Check.same("the calls answer", sum != 0 ? 1 : 0, 1);
+        long made = bytesSoFar() - before;
+        Check.holds("the calls answer", sum != Integer.MIN_VALUE);
+        return made;
     }
 }

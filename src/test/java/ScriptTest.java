@@ -163,7 +163,7 @@ public final class ScriptTest {
         String[] texts = {"Fh10h20v05v07l009l010l101l118", "Fh14h20h30s1h49v05v07v00l103l008l014", "Fh10v00", "F", "Fv03",
             "Fh40s0", "Fh10h10h10h10h10h10v00v00v00v00v00l009l010l109l100l219l200l313l339l449l440l505l521"};
         long[] seeds = {0, 1, -1, 7, Long.MAX_VALUE, Long.MIN_VALUE, 123456789012345L};
-        int[] weeks = {1, 2, 6, 30};
+        int[] weeks = {1, 2, 6, 12};
         for (String text : texts) {
             for (long seed : seeds) {
                 for (int m : weeks) {

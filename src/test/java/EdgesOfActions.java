@@ -1,0 +1,575 @@
+import java.util.List;
+import java.util.function.Consumer;
+
+/** The edges of the actions: promises 12 to 16, 18 and 19, and undo with what is remembered. Promise 17 is EdgesOfWeek. */
+final class EdgesOfActions {
+    private static final Class<IllegalArgumentException> BAD_ARGUMENT = IllegalArgumentException.class;
+    private static final Class<IllegalStateException> BAD_STATE = IllegalStateException.class;
+    private static final Class<IndexOutOfBoundsException> NOT_THERE = IndexOutOfBoundsException.class;
+    private static final int MIN = Integer.MIN_VALUE;
+    private static final int MAX = Integer.MAX_VALUE;
+    private static final int REMEMBERED = 14;
+    /** One of each; on someFarm() each of them makes a difference, also in this order or the other way round. */
+    private static final List<Consumer<HarvestBoxes>> ACTIONS = List.of(x -> x.addHouse(3), x -> x.addVegetable(9),
+            x -> x.setHarvest(1, 9), x -> x.setLiking(1, 1, 2), x -> x.skip(0, true), x -> x.returnCrates(1, 3),
+            x -> x.give(0, 0, 1), x -> x.pack());
+
+    private EdgesOfActions() {
+    }
+
+    static void all() {
+        terms();
+        promises12And13();
+        promises14And15();
+        promise16();
+        promise18();
+        promise19();
+        promise20();
+    }
+
+    private static void terms() {
+        Doc.in("Terms");
+        Doc.plain("ACTIONS AND UNDO");
+        Doc.edge("The methods in the section \"actions\" change the state, which consists of everything but the text and the save "
+                + "slots.", EdgesOfActions::whatUndoLeaves);
+        Doc.edge("Each call of one of them that does not throw an exception is an action, also if nothing becomes different",
+                EdgesOfActions::nothingDifferent);
+        Doc.edge("(undo is none).", EdgesOfActions::undoIsNone);
+        Doc.edge("Before each action, the state is remembered.", EdgesOfActions::eachIsRemembered);
+        Doc.edge("At most 14 states are remembered;", EdgesOfActions::fourteenStates);
+        Doc.edge("when one more is remembered, the oldest one is forgotten.", EdgesOfActions::fifteenthState);
+        Doc.edge("load and restore are not actions.", EdgesOfActions::noActions);
+    }
+
+    private static void promises12And13() {
+        Doc.in("Promise 12");
+        Doc.edge("`int addHouse(int size) throws IllegalArgumentException, IllegalStateException`: Adds a house that owes no "
+                + "crates.", EdgesOfActions::newHouse);
+        Doc.edge("- `size`: 1 to 4", EdgesOfActions::sizes);
+        Doc.edge("Returns its number.", EdgesOfActions::numbersOfHouses);
+        Doc.edge("Throws `IllegalArgumentException` if size is out of range", EdgesOfActions::sizesOutOfRange);
+        Doc.edge("Throws `IllegalStateException` if there are 6 houses", EdgesOfActions::seventhHouse);
+        Doc.in("Promise 13");
+        Doc.edge("`int addVegetable(int harvest) throws IllegalArgumentException, IllegalStateException`: Adds a vegetable.",
+                EdgesOfActions::newVegetable);
+        Doc.edge("- `harvest`: 0 to 40", EdgesOfActions::firstHarvests);
+        Doc.edge("Returns its number.", EdgesOfActions::numbersOfVegetables);
+        Doc.edge("Throws `IllegalArgumentException` if harvest is out of range", EdgesOfActions::firstHarvestsOutOfRange);
+        Doc.edge("Throws `IllegalStateException` if there are 5 vegetables", EdgesOfActions::sixthVegetable);
+    }
+
+    private static void promises14And15() {
+        Doc.in("Promise 14");
+        Doc.plain("`int setHarvest(int v, int n) throws IndexOutOfBoundsException, IllegalArgumentException`: Changes a harvest for "
+                + "the next week. - `v`: vegetable");
+        Doc.edge("- `n`: 0 to 40", EdgesOfActions::harvests);
+        Doc.edge("Returns the previous harvest.", EdgesOfActions::previousHarvests);
+        Doc.edge("Throws `IndexOutOfBoundsException` if there is no such vegetable", EdgesOfActions::harvestOfNone);
+        Doc.edge("Throws `IllegalArgumentException` if n is out of range", EdgesOfActions::harvestsOutOfRange);
+        Doc.in("Promise 15");
+        Doc.plain("`int setLiking(int h, int v, int n) throws IndexOutOfBoundsException, IllegalArgumentException`: Changes a "
+                + "liking. - `h`: house - `v`: vegetable");
+        Doc.edge("- `n`: 0 to 9", EdgesOfActions::likings);
+        Doc.edge("Returns the previous liking.", EdgesOfActions::previousLikings);
+        Doc.edge("Throws `IndexOutOfBoundsException` if there is no such house or vegetable", EdgesOfActions::likingOfNone);
+        Doc.edge("Throws `IllegalArgumentException` if n is out of range", EdgesOfActions::likingsOutOfRange);
+    }
+
+    private static void promise16() {
+        Doc.in("Promise 16");
+        Doc.edge("`int skip(int h, boolean is) throws IndexOutOfBoundsException`: Changes whether a house skips the next week.",
+                EdgesOfActions::skips);
+        Doc.plain("- `h`: house - `is`: whether it does then");
+        Doc.edge("Returns how many houses would get a box next week.", EdgesOfActions::boxesNextWeek);
+        Doc.edge("Throws `IndexOutOfBoundsException` if there is no such house", EdgesOfActions::skipOfNone);
+    }
+
+    private static void promise18() {
+        Doc.in("Promise 18");
+        Doc.plain("`int returnCrates(int h, int n) throws IndexOutOfBoundsException, IllegalArgumentException, "
+                + "IllegalStateException`: A house returns crates. - `h`: house");
+        Doc.edge("- `n`: 1 to 9", EdgesOfActions::returned);
+        Doc.edge("Returns the crates that it still owes.", EdgesOfActions::stillOwed);
+        Doc.edge("Throws `IndexOutOfBoundsException` if there is no such house", EdgesOfActions::cratesOfNone);
+        Doc.edge("Throws `IllegalArgumentException` if n is out of range", EdgesOfActions::cratesOutOfRange);
+        Doc.edge("Throws `IllegalStateException` if it does not owe so many", EdgesOfActions::tooManyCrates);
+    }
+
+    private static void promise19() {
+        Doc.in("Promise 19");
+        Doc.plain("`int give(int h, int v, int n) throws IndexOutOfBoundsException, IllegalArgumentException, "
+                + "IllegalStateException`: A house gives kilos of its box away. - `h`: house - `v`: vegetable");
+        Doc.edge("- `n`: 1 to 40", EdgesOfActions::given);
+        Doc.edge("Returns the kilos of this vegetable that are left in its box.", EdgesOfActions::left);
+        Doc.edge("Throws `IndexOutOfBoundsException` if there is no such house or vegetable", EdgesOfActions::givenOfNone);
+        Doc.edge("Throws `IllegalArgumentException` if n is out of range", EdgesOfActions::givenOutOfRange);
+        Doc.edge("Throws `IllegalStateException` if it does not have so many", EdgesOfActions::tooManyKilos);
+    }
+
+    private static void promise20() {
+        Doc.in("Promise 20");
+        Doc.edge("`int undo() throws IllegalStateException`: Takes back the last action that is remembered.",
+                EdgesOfActions::takenBack);
+        Doc.edge("Returns how many states are still remembered.", EdgesOfActions::stillRemembered);
+        Doc.edge("Throws `IllegalStateException` if none is remembered", EdgesOfActions::noneRemembered);
+    }
+
+    /** A farm on which each of the actions can be done. */
+    private static HarvestBoxes someFarm() {
+        HarvestBoxes x = Check.farm("Fh10h22v12v08l009l011l101l119");
+        x.pack();
+        x.setHarvest(0, 11);
+        x.skip(1, true);
+        x.save(0);
+        x.restore(0);
+        return x;
+    }
+
+    private static void whatUndoLeaves() {
+        for (Consumer<HarvestBoxes> action : ACTIONS) {
+            HarvestBoxes x = someFarm();
+            action.accept(x);
+            x.append('s');
+            x.save(0);
+            x.save(1);
+            String saved = Check.pictureOf(x);
+            x.undo();
+            x.restore(1);
+            Check.same("undo leaves slot 1 and the text", Check.pictureOf(x), saved);
+            x.restore(0);
+            Check.same("undo leaves slot 0 and the text", Check.pictureOf(x), saved);
+            Check.same("the text behind undo", x.clearText(), 30);
+        }
+    }
+
+    private static void nothingDifferent() {
+        HarvestBoxes x = Check.farm("Fh10v07s0");
+        x.setHarvest(0, 7);
+        x.setLiking(0, 0, 5);
+        x.skip(0, true);
+        x.skip(0, true);
+        for (int left = 3; left >= 0; left--) {
+            Check.same("states left", x.undo(), left);
+            Check.same("the harvest stays", x.vegetable(0, 0), 7);
+            Check.same("the mark stays", x.house(0, 3), 1);
+        }
+        Check.fails("then none", BAD_STATE, () -> x.undo());
+        HarvestBoxes nothing = new HarvestBoxes();
+        nothing.pack();
+        nothing.pack();
+        Check.same("a week of nothing is an action", nothing.undo(), 1);
+    }
+
+    private static void undoIsNone() {
+        HarvestBoxes x = Check.farm("Fv00");
+        x.setHarvest(0, 1);
+        x.setHarvest(0, 2);
+        x.setHarvest(0, 3);
+        Check.same("undo", x.undo(), 2);
+        Check.same("undo goes on backwards", x.undo(), 1);
+        Check.same("to the first harvest", x.vegetable(0, 0), 1);
+        x.setHarvest(0, 4);
+        Check.same("what was taken back is gone", x.undo(), 1);
+        Check.same("undo", x.undo(), 0);
+        Check.same("to the harvest of the text", x.vegetable(0, 0), 0);
+        Check.fails("undo of undo", BAD_STATE, () -> x.undo());
+    }
+
+    private static void eachIsRemembered() {
+        for (int kind = 0; kind < ACTIONS.size(); kind++) {
+            HarvestBoxes x = someFarm();
+            String before = Check.pictureOf(x);
+            ACTIONS.get(kind).accept(x);
+            Check.holds("action " + kind + " makes a difference", !Check.pictureOf(x).equals(before));
+            Check.same("undo of action " + kind, x.undo(), 0);
+            Check.same("all is as before action " + kind, Check.pictureOf(x), before);
+        }
+    }
+
+    private static HarvestBoxes withHarvestsSet(int times) {
+        HarvestBoxes x = someFarm();
+        for (int n = 1; n <= times; n++) {
+            x.setHarvest(0, n);
+        }
+        return x;
+    }
+
+    private static void fourteenStates() {
+        Check.same("behind 13 actions", withHarvestsSet(13).undo(), 12);
+        HarvestBoxes x = withHarvestsSet(14);
+        for (int left = 13; left >= 0; left--) {
+            Check.same("of 14 actions", x.undo(), left);
+        }
+        Check.same("the harvest before all of them", x.vegetable(0, 0), 11);
+        Check.fails("a fifteenth undo", BAD_STATE, () -> x.undo());
+        Check.same("behind 40 actions", withHarvestsSet(40).undo(), 13);
+    }
+
+    private static void fifteenthState() {
+        HarvestBoxes x = withHarvestsSet(15);
+        for (int left = 13; left >= 0; left--) {
+            Check.same("of 15 actions", x.undo(), left);
+            Check.same("the harvest before", x.vegetable(0, 0), left + 1);
+        }
+        Check.fails("the first harvest is forgotten", BAD_STATE, () -> x.undo());
+        for (Consumer<HarvestBoxes> action : ACTIONS) {
+            HarvestBoxes y = withHarvestsSet(14);
+            action.accept(y);
+            for (int left = 13; left >= 0; left--) {
+                Check.same("of 14 actions and another one", y.undo(), left);
+            }
+            Check.same("the harvest before the second of them", y.vegetable(0, 0), 1);
+            Check.fails("the first one is forgotten", BAD_STATE, () -> y.undo());
+        }
+        HarvestBoxes again = withHarvestsSet(40);
+        for (int undos = 0; undos < REMEMBERED; undos++) {
+            again.undo();
+        }
+        Check.same("the oldest of 40 that is remembered", again.vegetable(0, 0), 26);
+        again.setHarvest(0, 3);
+        Check.same("one again", again.undo(), 0);
+        Check.same("and its harvest", again.vegetable(0, 0), 26);
+    }
+
+    private static void noActions() {
+        HarvestBoxes x = Check.farm("Fh10");
+        Check.fails("undo of load", BAD_STATE, () -> x.undo());
+        x.save(0);
+        x.restore(0);
+        Check.fails("undo of restore", BAD_STATE, () -> x.undo());
+        x.addHouse(1);
+        x.load();
+        Check.fails("undo of load behind an action", BAD_STATE, () -> x.undo());
+        x.addHouse(1);
+        Check.same("the action alone", x.undo(), 0);
+    }
+
+    private static void newHouse() {
+        HarvestBoxes x = Check.farm("Fv07h49s0");
+        x.pack();
+        int h = x.addHouse(4);
+        int[] due = {4, 0, 0, 0, 0, 0, 1};
+        for (int what = 0; what < due.length; what++) {
+            Check.same("house(" + h + ", " + what + ") of a new house", x.house(h, what), due[what]);
+        }
+        x.skip(h, true);
+        x.pack();
+        x.setLiking(h, 0, 9);
+        Check.same("undo of all that came later", x.undo() + x.undo() + x.undo() + x.undo(), 4 + 3 + 2 + 1);
+        x.addHouse(1);
+        Check.same("no credit", x.house(h, 2), 0);
+        Check.same("no mark", x.house(h, 3), 0);
+        Check.same("no other liking", x.liking(h, 0), 5);
+    }
+
+    private static void sizes() {
+        HarvestBoxes x = new HarvestBoxes();
+        for (int size = 1; size <= 4; size++) {
+            int h = x.addHouse(size);
+            Check.same("its size", x.house(h, 0), size);
+        }
+    }
+
+    private static void numbersOfHouses() {
+        HarvestBoxes x = new HarvestBoxes();
+        for (int h = 0; h < 6; h++) {
+            Check.same("addHouse", x.addHouse(1), h);
+        }
+        x.undo();
+        Check.same("the last one again", x.addHouse(1), 5);
+        Check.same("behind a text", Check.farm("Fh10h10").addHouse(1), 2);
+    }
+
+    private static void sizesOutOfRange() {
+        for (int size : new int[] {0, 5, -1, MIN, MAX}) {
+            Twins.refuseAlways("addHouse(" + size + ")", BAD_ARGUMENT, x -> x.addHouse(size));
+        }
+    }
+
+    private static void seventhHouse() {
+        Twins.refuse(Twins::full, "a seventh house", BAD_STATE, x -> x.addHouse(1));
+        Twins.refuse(() -> Check.farm("Fh10h10h10h10h10h10"), "a seventh house", BAD_STATE, x -> x.addHouse(4));
+        Check.same("the sixth one", Check.farm("Fh10h10h10h10h10v00v00v00v00v00").addHouse(4), 5);
+    }
+
+    private static void newVegetable() {
+        HarvestBoxes x = Check.farm("Fh10v07l009");
+        x.pack();
+        int v = x.addVegetable(9);
+        int[] due = {9, 0, 0, 0};
+        for (int what = 0; what < due.length; what++) {
+            Check.same("vegetable(" + v + ", " + what + ") of a new vegetable", x.vegetable(v, what), due[what]);
+        }
+        Check.same("its liking", x.liking(0, v), 5);
+        x.skip(0, true);
+        x.pack();
+        Check.same("composted", x.vegetable(v, 2), 9);
+        Check.same("undo of all that came later", x.undo() + x.undo() + x.undo(), 3 + 2 + 1);
+        x.addVegetable(8);
+        Check.same("nothing composted", x.vegetable(v, 2), 0);
+    }
+
+    private static void firstHarvests() {
+        HarvestBoxes x = new HarvestBoxes();
+        for (int harvest : new int[] {0, 1, 39, 40}) {
+            int v = x.addVegetable(harvest);
+            Check.same("its harvest", x.vegetable(v, 0), harvest);
+        }
+    }
+
+    private static void numbersOfVegetables() {
+        HarvestBoxes x = new HarvestBoxes();
+        for (int v = 0; v < 5; v++) {
+            Check.same("addVegetable", x.addVegetable(0), v);
+        }
+        x.undo();
+        Check.same("the last one again", x.addVegetable(0), 4);
+        Check.same("behind a text", Check.farm("Fv00v00").addVegetable(0), 2);
+    }
+
+    private static void firstHarvestsOutOfRange() {
+        for (int harvest : new int[] {-1, 41, MIN, MAX}) {
+            Twins.refuseAlways("addVegetable(" + harvest + ")", BAD_ARGUMENT, x -> x.addVegetable(harvest));
+        }
+    }
+
+    private static void sixthVegetable() {
+        Twins.refuse(Twins::full, "a sixth vegetable", BAD_STATE, x -> x.addVegetable(0));
+        Twins.refuse(() -> Check.farm("Fv00v00v00v00v00"), "a sixth vegetable", BAD_STATE, x -> x.addVegetable(40));
+        Check.same("the fifth one", Check.farm("Fv00v00v00v00h10h10h10h10h10h10").addVegetable(40), 4);
+    }
+
+    private static void harvests() {
+        HarvestBoxes x = Check.farm("Fv07v07v07v07v07");
+        for (int n : new int[] {0, 1, 39, 40}) {
+            x.setHarvest(4, n);
+            Check.same("the harvest", x.vegetable(4, 0), n);
+        }
+        Check.same("another one stays", x.vegetable(3, 0), 7);
+    }
+
+    private static void previousHarvests() {
+        HarvestBoxes x = Check.farm("Fv40v00");
+        Check.same("the greatest one", x.setHarvest(0, 0), 40);
+        Check.same("the least one", x.setHarvest(0, 40), 0);
+        Check.same("the same again", x.setHarvest(0, 40), 40);
+        x.pack();
+        Check.same("behind a week", x.setHarvest(0, 1), 0);
+    }
+
+    private static void harvestOfNone() {
+        for (int v : new int[] {-1, 5, MIN, MAX}) {
+            Twins.refuseAlways("setHarvest(" + v + ", 0)", NOT_THERE, x -> x.setHarvest(v, 0));
+        }
+        Twins.refuse(Twins::nothing, "setHarvest(0, 0)", NOT_THERE, x -> x.setHarvest(0, 0));
+        Twins.refuse(Twins::some, "setHarvest(2, 0)", NOT_THERE, x -> x.setHarvest(2, 0));
+    }
+
+    private static void harvestsOutOfRange() {
+        for (int n : new int[] {-1, 41, MIN, MAX}) {
+            Twins.refuse(Twins::some, "setHarvest(1, " + n + ")", BAD_ARGUMENT, x -> x.setHarvest(1, n));
+            Twins.refuse(Twins::full, "setHarvest(4, " + n + ")", BAD_ARGUMENT, x -> x.setHarvest(4, n));
+        }
+    }
+
+    private static void likings() {
+        HarvestBoxes x = Check.farm("Fh10h10h10h10h10h10v00v00v00v00v00");
+        for (int n = 0; n <= 9; n++) {
+            x.setLiking(5, 4, n);
+            Check.same("the liking", x.liking(5, 4), n);
+        }
+        Check.same("of another house", x.liking(4, 4), 5);
+        Check.same("for another vegetable", x.liking(5, 3), 5);
+    }
+
+    private static void previousLikings() {
+        HarvestBoxes x = Check.farm("Fh10v00");
+        Check.same("the first one", x.setLiking(0, 0, 0), 5);
+        Check.same("the least one", x.setLiking(0, 0, 9), 0);
+        Check.same("the greatest one", x.setLiking(0, 0, 9), 9);
+        Check.same("the same again", x.setLiking(0, 0, 5), 9);
+    }
+
+    private static void likingOfNone() {
+        for (int far : new int[] {-1, 6, MIN, MAX}) {
+            Twins.refuseAlways("setLiking(" + far + ", 0, 5)", NOT_THERE, x -> x.setLiking(far, 0, 5));
+            Twins.refuseAlways("setLiking(0, " + far + ", 5)", NOT_THERE, x -> x.setLiking(0, far, 5));
+        }
+        Twins.refuse(Twins::nothing, "setLiking(0, 0, 5)", NOT_THERE, x -> x.setLiking(0, 0, 5));
+        Twins.refuse(Twins::some, "setLiking(3, 0, 5)", NOT_THERE, x -> x.setLiking(3, 0, 5));
+        Twins.refuse(Twins::some, "setLiking(0, 2, 5)", NOT_THERE, x -> x.setLiking(0, 2, 5));
+        Twins.refuse(Twins::full, "setLiking(0, 5, 5)", NOT_THERE, x -> x.setLiking(0, 5, 5));
+    }
+
+    private static void likingsOutOfRange() {
+        for (int n : new int[] {-1, 10, MIN, MAX}) {
+            Twins.refuse(Twins::some, "setLiking(0, 0, " + n + ")", BAD_ARGUMENT, x -> x.setLiking(0, 0, n));
+            Twins.refuse(Twins::full, "setLiking(5, 4, " + n + ")", BAD_ARGUMENT, x -> x.setLiking(5, 4, n));
+        }
+    }
+
+    private static void skips() {
+        HarvestBoxes x = Check.farm("Fh10h10h10h10h10h10");
+        for (int h = 0; h < 6; h += 5) {
+            x.skip(h, true);
+            Check.same("it skips", x.house(h, 3), 1);
+            x.skip(h, true);
+            Check.same("it skips still", x.house(h, 3), 1);
+            x.skip(h, false);
+            Check.same("it skips no more", x.house(h, 3), 0);
+            x.skip(h, false);
+            Check.same("nor then", x.house(h, 3), 0);
+        }
+    }
+
+    private static void boxesNextWeek() {
+        HarvestBoxes x = Check.farm("Fh10h10h10h10h10h13");
+        for (int h = 0; h < 5; h++) {
+            Check.same("skip(" + h + ", true)", x.skip(h, true), 4 - h);
+        }
+        Check.same("skip of one that owes 3", x.skip(5, true), 0);
+        Check.same("skip no more of one that owes 3", x.skip(5, false), 0);
+        for (int h = 0; h < 5; h++) {
+            Check.same("skip(" + h + ", false)", x.skip(h, false), h + 1);
+        }
+        Check.same("all six", Check.farm("Fh12h12h12h12h12h12").skip(0, false), 6);
+    }
+
+    private static void skipOfNone() {
+        for (int h : new int[] {-1, 6, MIN, MAX}) {
+            Twins.refuseAlways("skip(" + h + ", true)", NOT_THERE, x -> x.skip(h, true));
+            Twins.refuseAlways("skip(" + h + ", false)", NOT_THERE, x -> x.skip(h, false));
+        }
+        Twins.refuse(Twins::nothing, "skip(0, true)", NOT_THERE, x -> x.skip(0, true));
+        Twins.refuse(Twins::some, "skip(3, true)", NOT_THERE, x -> x.skip(3, true));
+    }
+
+    private static void returned() {
+        for (int n = 1; n <= 9; n++) {
+            HarvestBoxes x = Check.farm("Fh10h19");
+            x.returnCrates(1, n);
+            Check.same("returnCrates(1, " + n + ")", x.house(1, 1), 9 - n);
+        }
+    }
+
+    private static void stillOwed() {
+        HarvestBoxes x = Check.farm("Fh19h12");
+        Check.same("one", x.returnCrates(0, 1), 8);
+        Check.same("all that are left", x.returnCrates(0, 8), 0);
+        Check.same("one of two", x.returnCrates(1, 1), 1);
+        Check.same("nine of nine", Check.farm("Fh19").returnCrates(0, 9), 0);
+    }
+
+    private static void cratesOfNone() {
+        for (int h : new int[] {-1, 6, MIN, MAX}) {
+            Twins.refuseAlways("returnCrates(" + h + ", 1)", NOT_THERE, x -> x.returnCrates(h, 1));
+        }
+        Twins.refuse(Twins::nothing, "returnCrates(0, 1)", NOT_THERE, x -> x.returnCrates(0, 1));
+        Twins.refuse(Twins::some, "returnCrates(3, 1)", NOT_THERE, x -> x.returnCrates(3, 1));
+    }
+
+    private static void cratesOutOfRange() {
+        for (int n : new int[] {0, 10, -1, MIN, MAX}) {
+            Twins.refuse(Twins::some, "returnCrates(2, " + n + ")", BAD_ARGUMENT, x -> x.returnCrates(2, n));
+            Twins.refuse(Twins::full, "returnCrates(4, " + n + ")", BAD_ARGUMENT, x -> x.returnCrates(4, n));
+        }
+    }
+
+    private static void tooManyCrates() {
+        Twins.refuse(() -> Check.farm("Fh10"), "one of none", BAD_STATE, x -> x.returnCrates(0, 1));
+        Twins.refuse(() -> Check.farm("Fh18"), "nine of eight", BAD_STATE, x -> x.returnCrates(0, 9));
+        Twins.refuse(Twins::some, "four of three", BAD_STATE, x -> x.returnCrates(2, 4));
+        Check.same("three of three", Twins.some().returnCrates(2, 3), 0);
+        Check.same("eight of eight", Check.farm("Fh18").returnCrates(0, 8), 0);
+    }
+
+    private static void given() {
+        HarvestBoxes x = Check.farm("Fh10v40v40");
+        x.pack();
+        Check.same("the least", x.give(0, 0, 1), 39);
+        Check.same("the most", x.give(0, 1, 40), 0);
+        Check.same("given away", x.about(5), 41);
+    }
+
+    private static void left() {
+        HarvestBoxes x = Check.farm("Fh10h10v20v40");
+        x.pack();
+        Check.same("some", x.give(1, 0, 3), 7);
+        Check.same("all but one", x.give(1, 0, 6), 1);
+        Check.same("none", x.give(1, 0, 1), 0);
+        Check.boxes(x, "the other boxes stay", new int[][] {{10, 20}, {0, 20}});
+    }
+
+    private static void givenOfNone() {
+        for (int far : new int[] {-1, 6, MIN, MAX}) {
+            Twins.refuseAlways("give(" + far + ", 0, 1)", NOT_THERE, x -> x.give(far, 0, 1));
+            Twins.refuseAlways("give(0, " + far + ", 1)", NOT_THERE, x -> x.give(0, far, 1));
+        }
+        Twins.refuse(Twins::nothing, "give(0, 0, 1)", NOT_THERE, x -> x.give(0, 0, 1));
+        Twins.refuse(Twins::some, "give(3, 0, 1)", NOT_THERE, x -> x.give(3, 0, 1));
+        Twins.refuse(Twins::some, "give(0, 2, 1)", NOT_THERE, x -> x.give(0, 2, 1));
+        Twins.refuse(Twins::full, "give(0, 5, 1)", NOT_THERE, x -> x.give(0, 5, 1));
+    }
+
+    private static void givenOutOfRange() {
+        for (int n : new int[] {0, 41, -1, MIN, MAX}) {
+            Twins.refuse(Twins::some, "give(0, 0, " + n + ")", BAD_ARGUMENT, x -> x.give(0, 0, n));
+            Twins.refuse(Twins::full, "give(5, 4, " + n + ")", BAD_ARGUMENT, x -> x.give(5, 4, n));
+        }
+    }
+
+    private static void tooManyKilos() {
+        Twins.refuse(() -> Check.farm("Fh10v40"), "one of none", BAD_STATE, x -> x.give(0, 0, 1));
+        Twins.refuse(() -> packed("Fh10v39"), "40 of 39", BAD_STATE, x -> x.give(0, 0, 40));
+        Twins.refuse(() -> packed("Fh10h10v04v40"), "three of two", BAD_STATE, x -> x.give(1, 0, 3));
+        Check.same("39 of 39", packed("Fh10v39").give(0, 0, 39), 0);
+        Check.same("two of two", packed("Fh10h10v04v40").give(1, 0, 2), 0);
+    }
+
+    private static HarvestBoxes packed(String text) {
+        HarvestBoxes x = Check.farm(text);
+        x.pack();
+        return x;
+    }
+
+    private static HarvestBoxes withLastActions(int times) {
+        HarvestBoxes x = someFarm();
+        for (int i = 1; i <= times; i++) {
+            ACTIONS.get(ACTIONS.size() - i).accept(x);
+        }
+        return x;
+    }
+
+    private static void takenBack() {
+        for (int times = 0; times <= ACTIONS.size(); times++) {
+            HarvestBoxes x = withLastActions(ACTIONS.size());
+            for (int undos = times; undos < ACTIONS.size(); undos++) {
+                x.undo();
+            }
+            Check.same("behind " + times + " actions", Check.pictureOf(x), Check.pictureOf(withLastActions(times)));
+        }
+    }
+
+    private static void stillRemembered() {
+        HarvestBoxes x = Check.farm("Fv00");
+        x.setHarvest(0, 1);
+        Check.same("none", x.undo(), 0);
+        x.setHarvest(0, 1);
+        x.setHarvest(0, 2);
+        Check.same("one", x.undo(), 1);
+        Check.same("13", withHarvestsSet(14).undo(), 13);
+        Check.same("at most 13", withHarvestsSet(15).undo(), 13);
+    }
+
+    private static void noneRemembered() {
+        Twins.refuse(Twins::nothing, "undo", BAD_STATE, x -> x.undo());
+        Twins.refuse(() -> Check.farm(Twins.FULL_TEXT), "undo behind load", BAD_STATE, x -> x.undo());
+        Twins.refuse(EdgesOfActions::someFarm, "undo behind restore", BAD_STATE, x -> x.undo());
+        HarvestBoxes x = withHarvestsSet(15);
+        for (int undos = 0; undos < REMEMBERED; undos++) {
+            x.undo();
+        }
+        Check.fails("undo behind 14 of them", BAD_STATE, () -> x.undo());
+        Check.fails("and again", BAD_STATE, () -> x.undo());
+    }
+}
