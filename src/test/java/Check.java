@@ -1,10 +1,28 @@
 /** Counts what is as due, prints what is not, and helps the tests to build farms and to look at them. */
 final class Check {
+    private static final long MOST_SECONDS = 300;
     private static int right;
     private static int wrong;
     private static String topic = "";
 
+    static {
+        // A call that never ends must fail its test, not hold up the others.
+        Thread guard = new Thread(Check::endAtLast);
+        guard.setDaemon(true);
+        guard.start();
+    }
+
     private Check() {
+    }
+
+    private static void endAtLast() {
+        try {
+            Thread.sleep(1000 * MOST_SECONDS);
+        } catch (InterruptedException e) {
+            return;
+        }
+        System.out.println(topic + "no end after " + MOST_SECONDS + " seconds");
+        Runtime.getRuntime().halt(1);
     }
 
     /** Stands ahead of what is printed from here on. */

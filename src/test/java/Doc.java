@@ -53,7 +53,7 @@ final class Doc {
         }
     }
 
-    /** No word of this section tells what the class must answer. */
+    /** No word of this section tells an edge. */
     static void leave(String title) {
         Check.holds("the document has a section " + title, UNNAMED.remove(title) != null);
     }

@@ -78,7 +78,8 @@ final class EdgesOfAsking {
         Doc.in("Promise 11");
         Doc.plain("`int order(int place) throws IllegalArgumentException`: Returns the houses in the order of their happiness.");
         Doc.edge("- `place`: 0 or more", EdgesOfAsking::places);
-        Doc.edge("Returns the house with this place, from 0, when those with a greater happiness are first,", EdgesOfAsking::happiestFirst);
+        Doc.edge("Returns the house with this place, from 0, when those with a greater happiness are first,",
+                EdgesOfAsking::happiestFirst);
         Doc.edge("of several the lowest one;", EdgesOfAsking::lowestFirst);
         Doc.edge("NONE if there are not so many.", EdgesOfAsking::notSoMany);
         Doc.edge("Throws `IllegalArgumentException` if place is negative", EdgesOfAsking::negativePlaces);
@@ -508,6 +509,11 @@ final class EdgesOfAsking {
         orderIs(Check.farm("Fv40"), "a vegetable alone", NONE, NONE);
         orderIs(Check.farm("Fh19s0"), "one house", 0, NONE, NONE);
         orderIs(Check.farm("Fh10h10"), "two houses", 0, 1, NONE, NONE);
+        HarvestBoxes x = Check.farm("Fh10");
+        x.addHouse(1);
+        Check.write(x, "");
+        x.errorPosition();
+        orderIs(x, "two houses, whatever the text is", 0, 1, NONE);
     }
 
     private static void negativePlaces() {

@@ -206,10 +206,10 @@ final class EdgesOfFarm {
     private static void firstLikings() {
         HarvestBoxes[] farms = {new HarvestBoxes(), Check.farm("F"), Check.farm("Fh10h10v00"), Check.farm("Fv00v00h10")};
         for (HarvestBoxes x : farms) {
-            while (x.about(0) < 6) {
+            for (int h = x.about(0); h < 6; h++) {
                 x.addHouse(1);
             }
-            while (x.about(1) < 5) {
+            for (int v = x.about(1); v < 5; v++) {
                 x.addVegetable(0);
             }
             for (int cell = 0; cell < 30; cell++) {

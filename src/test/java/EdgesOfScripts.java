@@ -49,7 +49,8 @@ final class EdgesOfScripts {
         Doc.edge("5 h n 0: returnCrates(h, n).", EdgesOfScripts::crates);
         Doc.edge("6 h v n: give(h, v, n).", EdgesOfScripts::given);
         Doc.edge("7 h x y: succeeds if the happiness of the house h is at least xy.", EdgesOfScripts::happyEnough);
-        Doc.edge("8 h v n: succeeds if the box of the house h has at least n kilos of the vegetable v.", EdgesOfScripts::fullEnough);
+        Doc.edge("8 h v n: succeeds if the box of the house h has at least n kilos of the vegetable v.",
+                EdgesOfScripts::fullEnough);
         Doc.edge("9 n 0 0: succeeds if at least n houses would get a box next week.", EdgesOfScripts::boxesEnough);
     }
 
@@ -211,6 +212,10 @@ final class EdgesOfScripts {
         script(kilo, 3, 2119_4000_7109L, NONE);
         script(kilo, 3, 2118_4000_7109L, 2);
         script(kilo, 3, 2110_4000_8111L, 2);
+        HarvestBoxes seven = Check.farm("Fh10h13v00v07");
+        script(seven, 3, 2019_4000_7063L, NONE);
+        script(seven, 3, 2019_4000_7064L, 2);
+        script(seven, 3, 2109_4000_7036L, 2);
     }
 
     private static void skips() {
@@ -258,6 +263,9 @@ final class EdgesOfScripts {
         last.pack();
         succeed(last, 6541);
         fail(last, 6540, 6542, 6551, 6641, 6531);
+        script(last, 2, 6541_8541L, 1);
+        script(last, 2, 6541_8441L, NONE);
+        script(last, 2, 6541_6541L, 1);
     }
 
     private static void happyEnough() {

@@ -15,8 +15,8 @@ final class EdgesOfSlots {
         Doc.edge("Returns the number of weeks that were packed.", EdgesOfSlots::weeksOfSave);
         Doc.edge("Throws `IndexOutOfBoundsException` if there is no such save slot", EdgesOfSlots::noSuchSlotToSave);
         Doc.in("Promise 29");
-        Doc.edge("`int restore(int slot) throws IndexOutOfBoundsException, IllegalStateException`: Replaces the state by the one in "
-                + "a save slot,", EdgesOfSlots::replaced);
+        Doc.edge("`int restore(int slot) throws IndexOutOfBoundsException, IllegalStateException`: Replaces the state by the one "
+                + "in a save slot,", EdgesOfSlots::replaced);
         Doc.edge("and forgets all remembered states.", EdgesOfSlots::forgets);
         Doc.edge("The save slot keeps it.", EdgesOfSlots::keepsIt);
         Doc.edge("- `slot`: 0 or 1", EdgesOfSlots::eitherSlot);

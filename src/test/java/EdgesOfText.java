@@ -382,6 +382,10 @@ final class EdgesOfText {
         Check.same("swaps of the last week", x.about(8), 0);
         Check.same("composted of vegetable 0", x.vegetable(0, 2), 0);
         Check.same("credit of house 1", x.house(1, 2), 0);
+        HarvestBoxes tried = Check.farm("Fh10v07v40l000s0");
+        Check.same("what would be in no box", tried.wouldGet(0, 0), 0);
+        tried.load();
+        Check.same("what would be composted", tried.about(6), 0);
     }
 
     private static void loadForgets() {

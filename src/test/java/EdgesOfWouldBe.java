@@ -10,8 +10,8 @@ final class EdgesOfWouldBe {
 
     static void all() {
         Doc.in("Terms");
-        Doc.edge("Ahead of the calls `wouldGet`, `wouldBe`, `bestSkip`, `bestMore`, `firstSwap` the interface says: ---- what would "
-                + "be; these and all following methods up to the save slots change nothing.", EdgesOfWouldBe::changeNothing);
+        Doc.edge("Ahead of the calls `wouldGet`, `wouldBe`, `bestSkip`, `bestMore`, `firstSwap` the interface says: ---- what "
+                + "would be; these and all following methods up to the save slots change nothing.", EdgesOfWouldBe::changeNothing);
         Doc.in("Promise 21");
         Doc.plain("`int wouldGet(int h, int v) throws IndexOutOfBoundsException`: Tells what a house would get. - `h`: house - "
                 + "`v`: vegetable");
@@ -101,6 +101,10 @@ final class EdgesOfWouldBe {
         HarvestBoxes swapping = Check.farm("Fh10h10v06v06l009l011l101l119");
         Check.same("with the swaps", swapping.wouldBe(0), 54);
         Check.same("a house alone", Check.farm("Fh10").wouldBe(0), 0);
+        HarvestBoxes later = Check.farm("Fh10v40");
+        later.setHarvest(0, 7);
+        Check.same("with the harvest as it is now", later.wouldBe(0), 35);
+        Check.same("and again", later.wouldBe(0), 35);
     }
 
     private static void wouldBeOfNone() {
@@ -123,6 +127,13 @@ final class EdgesOfWouldBe {
         bestSkip("Fh40h10h10v06l009l107l208", 1);
         bestSkip("Fh10h10h10h10h10h10v30l001l101l201l301l401l500", 5);
         bestSkip("Fh10h10h10h10h10h10v30l000l101l201l301l401l501", 0);
+        HarvestBoxes later = new HarvestBoxes();
+        later.addHouse(1);
+        Check.same("one house that came just now", later.bestSkip(), 0);
+        later.addHouse(1);
+        later.addVegetable(2);
+        later.setLiking(0, 0, 9);
+        Check.same("another one that came just now", later.bestSkip(), 1);
         // The box of the week before, also of the house that would skip, is eaten behind pack().
         HarvestBoxes x = Check.farm("Fh10h10v40l009l100");
         x.skip(1, true);
@@ -183,6 +194,17 @@ final class EdgesOfWouldBe {
         bestMore("Fh10h10v00v02l002l011l105l111", 0);
         // 28 with a kilo more of vegetable 0, 27 with one of vegetable 1: all houses together, behind a swap.
         bestMore("Fh10h10v02v02l004l015l106l113", 0);
+        moreOfWhatCameJustNow();
+    }
+
+    private static void moreOfWhatCameJustNow() {
+        HarvestBoxes x = new HarvestBoxes();
+        x.addHouse(1);
+        x.addVegetable(0);
+        Check.same("one vegetable that came just now", x.bestMore(), 0);
+        x.addVegetable(0);
+        x.setLiking(0, 1, 9);
+        Check.same("another one that came just now", x.bestMore(), 1);
     }
 
     private static void lowestMore() {

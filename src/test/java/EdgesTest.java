@@ -4,6 +4,7 @@ import java.io.IOException;
 public final class EdgesTest {
     public static void main(String[] args) throws IOException {
         Doc.read();
+        // FaceTest looks at it.
         Doc.leave("The public face");
         Doc.leave("Not promised");
         EdgesOfFarm.all();
@@ -11,6 +12,7 @@ public final class EdgesTest {
         EdgesOfText.all();
         EdgesOfAsking.all();
         EdgesOfActions.all();
+        EdgesOfUndo.all();
         EdgesOfRefusals.all();
         EdgesOfWouldBe.all();
         EdgesOfScripts.all();
