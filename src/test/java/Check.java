@@ -1,3 +1,8 @@
+import java.util.ArrayList;
+import java.util.LinkedHashMap;
+import java.util.List;
+import java.util.Map;
+
 /** Counts what is as due, prints what is not, and helps the tests to build farms and to look at them. */
 final class Check {
     private static final long MOST_SECONDS = 300;
@@ -104,30 +109,47 @@ final class Check {
 
     /** All that can be asked without a change, but for what the remembered states and the save slots hold. */
     static String pictureOf(HarvestBoxes x) {
-        int houses = x.about(0);
-        int vegetables = x.about(1);
-        StringBuilder picture = new StringBuilder("text ").append(x.errorPosition()).append("; about");
+        return answersOf(x).toString();
+    }
+
+    private static Map<String, Integer> answersOf(HarvestBoxes x) {
+        Map<String, Integer> answers = new LinkedHashMap<>();
+        answers.put("errorPosition()", x.errorPosition());
         for (int what = 0; what <= 9; what++) {
-            picture.append(' ').append(x.about(what));
+            answers.put("about(" + what + ")", x.about(what));
         }
+        int houses = answers.get("about(0)");
+        int vegetables = answers.get("about(1)");
         for (int h = 0; h < houses; h++) {
-            picture.append("; house");
             for (int what = 0; what <= 6; what++) {
-                picture.append(' ').append(x.house(h, what));
+                answers.put("house(" + h + ", " + what + ")", x.house(h, what));
             }
         }
         for (int v = 0; v < vegetables; v++) {
-            picture.append("; vegetable");
             for (int what = 0; what <= 3; what++) {
-                picture.append(' ').append(x.vegetable(v, what));
+                answers.put("vegetable(" + v + ", " + what + ")", x.vegetable(v, what));
             }
         }
         for (int cell = 0; cell < houses * vegetables; cell++) {
             int h = cell / vegetables;
             int v = cell % vegetables;
-            picture.append(' ').append(x.liking(h, v)).append('*').append(x.box(h, v));
+            answers.put("liking(" + h + ", " + v + ")", x.liking(h, v));
+            answers.put("box(" + h + ", " + v + ")", x.box(h, v));
         }
-        return picture.toString();
+        return answers;
+    }
+
+    /** The calls make these answers different, or new, and no others: each is told as "about(2)=1". */
+    static void changes(HarvestBoxes x, String what, Runnable calls, String... due) {
+        Map<String, Integer> before = answersOf(x);
+        calls.run();
+        List<String> changed = new ArrayList<>();
+        for (Map.Entry<String, Integer> now : answersOf(x).entrySet()) {
+            if (!now.getValue().equals(before.get(now.getKey()))) {
+                changed.add(now.toString());
+            }
+        }
+        same(what + " changes", changed.toString(), List.of(due).toString());
     }
 
     static void boxes(HarvestBoxes x, String what, int[][] due) {

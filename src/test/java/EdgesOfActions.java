@@ -36,15 +36,15 @@ final class EdgesOfActions {
 
     private static void promises14And15() {
         Doc.in("Promise 14");
-        Doc.plain("`int setHarvest(int v, int n) throws IndexOutOfBoundsException, IllegalArgumentException`: Changes a harvest "
-                + "for the next week. - `v`: vegetable");
+        Doc.edge("`int setHarvest(int v, int n) throws IndexOutOfBoundsException, IllegalArgumentException`: Changes a harvest "
+                + "for the next week. - `v`: vegetable", EdgesOfActions::changesAHarvest);
         Doc.edge("- `n`: 0 to 40", EdgesOfActions::harvests);
         Doc.edge("Returns the previous harvest.", EdgesOfActions::previousHarvests);
         Doc.edge("Throws `IndexOutOfBoundsException` if there is no such vegetable", EdgesOfActions::harvestOfNone);
         Doc.edge("Throws `IllegalArgumentException` if n is out of range", EdgesOfActions::harvestsOutOfRange);
         Doc.in("Promise 15");
-        Doc.plain("`int setLiking(int h, int v, int n) throws IndexOutOfBoundsException, IllegalArgumentException`: Changes a "
-                + "liking. - `h`: house - `v`: vegetable");
+        Doc.edge("`int setLiking(int h, int v, int n) throws IndexOutOfBoundsException, IllegalArgumentException`: Changes a "
+                + "liking. - `h`: house - `v`: vegetable", EdgesOfActions::changesALiking);
         Doc.edge("- `n`: 0 to 9", EdgesOfActions::likings);
         Doc.edge("Returns the previous liking.", EdgesOfActions::previousLikings);
         Doc.edge("Throws `IndexOutOfBoundsException` if there is no such house or vegetable", EdgesOfActions::likingOfNone);
@@ -55,15 +55,15 @@ final class EdgesOfActions {
         Doc.in("Promise 16");
         Doc.edge("`int skip(int h, boolean is) throws IndexOutOfBoundsException`: Changes whether a house skips the next week.",
                 EdgesOfActions::skips);
-        Doc.plain("- `h`: house - `is`: whether it does then");
+        Doc.edge("- `h`: house - `is`: whether it does then", EdgesOfActions::changesAMark);
         Doc.edge("Returns how many houses would get a box next week.", EdgesOfActions::boxesNextWeek);
         Doc.edge("Throws `IndexOutOfBoundsException` if there is no such house", EdgesOfActions::skipOfNone);
     }
 
     private static void promise18() {
         Doc.in("Promise 18");
-        Doc.plain("`int returnCrates(int h, int n) throws IndexOutOfBoundsException, IllegalArgumentException, "
-                + "IllegalStateException`: A house returns crates. - `h`: house");
+        Doc.edge("`int returnCrates(int h, int n) throws IndexOutOfBoundsException, IllegalArgumentException, "
+                + "IllegalStateException`: A house returns crates. - `h`: house", EdgesOfActions::changesCrates);
         Doc.edge("- `n`: 1 to 9", EdgesOfActions::returned);
         Doc.edge("Returns the crates that it still owes.", EdgesOfActions::stillOwed);
         Doc.edge("Throws `IndexOutOfBoundsException` if there is no such house", EdgesOfActions::cratesOfNone);
@@ -73,8 +73,9 @@ final class EdgesOfActions {
 
     private static void promise19() {
         Doc.in("Promise 19");
-        Doc.plain("`int give(int h, int v, int n) throws IndexOutOfBoundsException, IllegalArgumentException, "
-                + "IllegalStateException`: A house gives kilos of its box away. - `h`: house - `v`: vegetable");
+        Doc.edge("`int give(int h, int v, int n) throws IndexOutOfBoundsException, IllegalArgumentException, "
+                + "IllegalStateException`: A house gives kilos of its box away. - `h`: house - `v`: vegetable",
+                EdgesOfActions::changesABox);
         Doc.edge("- `n`: 1 to 40", EdgesOfActions::given);
         Doc.edge("Returns the kilos of this vegetable that are left in its box.", EdgesOfActions::left);
         Doc.edge("Throws `IndexOutOfBoundsException` if there is no such house or vegetable", EdgesOfActions::givenOfNone);
@@ -82,7 +83,57 @@ final class EdgesOfActions {
         Doc.edge("Throws `IllegalStateException` if it does not have so many", EdgesOfActions::tooManyKilos);
     }
 
+    /** House 0 has 2 and 2 kilos and owes a crate; house 1 has 3 and 2 and owes three. */
+    private static HarvestBoxes someFarm() {
+        return packed("Fh10h22v05v04l019l103");
+    }
+
+    private static void changesAHarvest() {
+        HarvestBoxes x = someFarm();
+        Check.changes(x, "setHarvest(1, 9)", () -> x.setHarvest(1, 9), "vegetable(1, 0)=9");
+        x.pack();
+        Check.boxes(x, "with the harvest that was set", new int[][] {{0, 9}, {0, 0}});
+        x.setHarvest(0, 9);
+        x.setHarvest(0, 0);
+        x.pack();
+        Check.same("for the next week alone", x.about(3), 0);
+    }
+
+    private static void changesALiking() {
+        HarvestBoxes x = someFarm();
+        Check.changes(x, "setLiking(1, 0, 7)", () -> x.setLiking(1, 0, 7), "house(1, 5)=31", "vegetable(0, 3)=1",
+                "liking(1, 0)=7");
+        Check.changes(x, "setLiking(0, 1, 0)", () -> x.setLiking(0, 1, 0), "house(0, 5)=10", "vegetable(1, 3)=1",
+                "liking(0, 1)=0");
+    }
+
+    private static void changesAMark() {
+        HarvestBoxes x = someFarm();
+        Check.changes(x, "skip(0, true)", () -> x.skip(0, true), "about(9)=0", "house(0, 3)=1", "house(0, 6)=0");
+        Check.changes(x, "skip(0, false)", () -> x.skip(0, false), "about(9)=1", "house(0, 3)=0", "house(0, 6)=1");
+        Check.changes(x, "skip(1, true) with three crates", () -> x.skip(1, true), "house(1, 3)=1");
+    }
+
+    private static void changesCrates() {
+        HarvestBoxes x = someFarm();
+        Check.changes(x, "returnCrates(1, 1)", () -> x.returnCrates(1, 1), "about(7)=3", "about(9)=2", "house(1, 1)=2",
+                "house(1, 6)=1");
+        Check.changes(x, "returnCrates(0, 1)", () -> x.returnCrates(0, 1), "about(7)=2", "house(0, 1)=0");
+    }
+
+    private static void changesABox() {
+        HarvestBoxes x = someFarm();
+        Check.changes(x, "give(1, 0, 2)", () -> x.give(1, 0, 2), "about(3)=7", "about(5)=2", "house(1, 4)=3",
+                "house(1, 5)=13", "vegetable(0, 1)=3", "box(1, 0)=1");
+        Check.changes(x, "give(0, 1, 2)", () -> x.give(0, 1, 2), "about(3)=5", "about(5)=4", "house(0, 4)=2",
+                "house(0, 5)=10", "vegetable(1, 1)=2", "box(0, 1)=0");
+    }
+
     private static void newHouse() {
+        HarvestBoxes farm = someFarm();
+        Check.changes(farm, "addHouse(4)", () -> farm.addHouse(4), "about(0)=3", "about(9)=2", "house(2, 0)=4", "house(2, 1)=0",
+                "house(2, 2)=0", "house(2, 3)=0", "house(2, 4)=0", "house(2, 5)=0", "house(2, 6)=1", "liking(2, 0)=5",
+                "box(2, 0)=0", "liking(2, 1)=5", "box(2, 1)=0");
         HarvestBoxes x = Check.farm("Fv07h49s0");
         x.pack();
         int h = x.addHouse(4);
@@ -131,6 +182,10 @@ final class EdgesOfActions {
     }
 
     private static void newVegetable() {
+        HarvestBoxes farm = someFarm();
+        Check.changes(farm, "addVegetable(40)", () -> farm.addVegetable(40), "about(1)=3", "vegetable(2, 0)=40",
+                "vegetable(2, 1)=0", "vegetable(2, 2)=0", "vegetable(2, 3)=0", "liking(0, 2)=5", "box(0, 2)=0", "liking(1, 2)=5",
+                "box(1, 2)=0");
         HarvestBoxes x = Check.farm("Fh10v07l009");
         x.pack();
         int v = x.addVegetable(9);

@@ -1,3 +1,5 @@
+import java.util.function.IntUnaryOperator;
+
 /** The edges of promises 6 to 11: what there is. */
 final class EdgesOfAsking {
     private static final Class<IllegalArgumentException> BAD_ARGUMENT = IllegalArgumentException.class;
@@ -15,12 +17,13 @@ final class EdgesOfAsking {
         promise7();
         promise8();
         Doc.in("Promise 9");
-        Doc.plain("`int box(int h, int v) throws IndexOutOfBoundsException`: Returns what is in a box. - `h`: house - `v`: "
-                + "vegetable");
+        Doc.edge("`int box(int h, int v) throws IndexOutOfBoundsException`: Returns what is in a box. - `h`: house - `v`: "
+                + "vegetable", EdgesOfAsking::boxesOfTwoWeeks);
         Doc.edge("Returns the kilos of this vegetable in the box of this house.", EdgesOfAsking::kilosOfBoxes);
         Doc.edge("Throws `IndexOutOfBoundsException` if there is no such house or vegetable", EdgesOfAsking::noSuchBox);
         Doc.in("Promise 10");
-        Doc.plain("`int liking(int h, int v) throws IndexOutOfBoundsException`: Returns a liking. - `h`: house - `v`: vegetable");
+        Doc.edge("`int liking(int h, int v) throws IndexOutOfBoundsException`: Returns a liking. - `h`: house - `v`: vegetable",
+                EdgesOfAsking::likingsOfTwoWeeks);
         Doc.edge("Returns the liking of this house for this vegetable.", EdgesOfAsking::likings);
         Doc.edge("Throws `IndexOutOfBoundsException` if there is no such house or vegetable", EdgesOfAsking::noSuchLiking);
         promise11();
@@ -40,7 +43,7 @@ final class EdgesOfAsking {
         Doc.edge("8: the swaps that were made in the last week that was packed (0 if there is none);",
                 EdgesOfAsking::swapsOfLastWeek);
         Doc.edge("9: the houses that would get a box next week", EdgesOfAsking::housesWithBox);
-        Doc.plain("Returns that number.");
+        Doc.edge("Returns that number.", EdgesOfAsking::numbersOfTwoWeeks);
         Doc.edge("Throws `IllegalArgumentException` if what is not 0 to 9", EdgesOfAsking::noSuchNumber);
     }
 
@@ -55,7 +58,7 @@ final class EdgesOfAsking {
         Doc.edge("4: the kilos in its box;", EdgesOfAsking::kilosOfHouse);
         Doc.edge("5: its happiness, the sum of its likings for all kilos in its box;", EdgesOfAsking::happiness);
         Doc.edge("6: 1 if it would get a box next week, otherwise 0", EdgesOfAsking::boxNextWeek);
-        Doc.plain("Returns that number.");
+        Doc.edge("Returns that number.", EdgesOfAsking::housesOfTwoWeeks);
         Doc.edge("Throws `IndexOutOfBoundsException` if there is no such house", EdgesOfAsking::noSuchHouse);
         Doc.edge("Throws `IllegalArgumentException` if what is not 0 to 6", EdgesOfAsking::noSuchNumberOfHouse);
     }
@@ -69,20 +72,94 @@ final class EdgesOfAsking {
         Doc.edge("2: the kilos of it that were composted so far;", EdgesOfAsking::compostOfVegetable);
         Doc.edge("3: the house that likes it most, the lowest of several,", EdgesOfAsking::likesItMost);
         Doc.edge("NONE without houses", EdgesOfAsking::nobodyLikesIt);
-        Doc.plain("Returns that number.");
+        Doc.edge("Returns that number.", EdgesOfAsking::vegetablesOfTwoWeeks);
         Doc.edge("Throws `IndexOutOfBoundsException` if there is no such vegetable", EdgesOfAsking::noSuchVegetable);
         Doc.edge("Throws `IllegalArgumentException` if what is not 0 to 3", EdgesOfAsking::noSuchNumberOfVegetable);
     }
 
     private static void promise11() {
         Doc.in("Promise 11");
-        Doc.plain("`int order(int place) throws IllegalArgumentException`: Returns the houses in the order of their happiness.");
+        Doc.edge("`int order(int place) throws IllegalArgumentException`: Returns the houses in the order of their happiness.",
+                EdgesOfAsking::orderOfTwoWeeks);
         Doc.edge("- `place`: 0 or more", EdgesOfAsking::places);
         Doc.edge("Returns the house with this place, from 0, when those with a greater happiness are first,",
                 EdgesOfAsking::happiestFirst);
         Doc.edge("of several the lowest one;", EdgesOfAsking::lowestFirst);
         Doc.edge("NONE if there are not so many.", EdgesOfAsking::notSoMany);
         Doc.edge("Throws `IllegalArgumentException` if place is negative", EdgesOfAsking::negativePlaces);
+    }
+
+    /**
+     * A week of houses 1 and 2, in which 13 and 7 kilos become 6 and 2 for house 1, 7 and 5 for house 2, and by two swaps
+     * 8 and 0, 5 and 7; house 2 gives 3 away. The second week will be one of house 0, with a credit of 1, and house 2: two
+     * and three parts of 30 and 4 kilos, the last one of which nobody likes.
+     */
+    static HarvestBoxes beforeTheSecondWeek() {
+        HarvestBoxes x = packed("Fh10h22h31v13v07l001l110l219s0");
+        x.give(2, 1, 3);
+        x.setLiking(0, 1, 0);
+        x.setLiking(2, 1, 0);
+        x.setHarvest(0, 30);
+        x.setHarvest(1, 4);
+        return x;
+    }
+
+    private static HarvestBoxes twoWeeks() {
+        HarvestBoxes x = beforeTheSecondWeek();
+        x.pack();
+        return x;
+    }
+
+    private static void numbersAre(String what, IntUnaryOperator call, int... due) {
+        for (int i = 0; i < due.length; i++) {
+            Check.same(what + ", number " + i, call.applyAsInt(i), due[i]);
+        }
+    }
+
+    private static void numbersOfTwoWeeks() {
+        HarvestBoxes first = beforeTheSecondWeek();
+        numbersAre("about the first week", what -> first.about(what), 3, 2, 1, 17, 0, 3, 0, 5, 2, 2);
+        HarvestBoxes x = twoWeeks();
+        numbersAre("about both weeks", what -> x.about(what), 3, 2, 2, 33, 17, 3, 1, 7, 0, 1);
+    }
+
+    private static void housesOfTwoWeeks() {
+        HarvestBoxes first = beforeTheSecondWeek();
+        numbersAre("house 0", what -> first.house(0, what), 1, 0, 1, 0, 0, 0, 1);
+        numbersAre("house 1", what -> first.house(1, what), 2, 3, 0, 0, 8, 40, 0);
+        numbersAre("house 2", what -> first.house(2, what), 3, 2, 0, 0, 9, 25, 1);
+        HarvestBoxes x = twoWeeks();
+        numbersAre("house 0 then", what -> x.house(0, what), 1, 1, 0, 0, 13, 12, 1);
+        numbersAre("house 1 then", what -> x.house(1, what), 2, 3, 0, 0, 0, 0, 0);
+        numbersAre("house 2 then", what -> x.house(2, what), 3, 3, 0, 0, 20, 90, 0);
+    }
+
+    private static void vegetablesOfTwoWeeks() {
+        HarvestBoxes first = beforeTheSecondWeek();
+        numbersAre("vegetable 0", what -> first.vegetable(0, what), 30, 13, 0, 1);
+        numbersAre("vegetable 1", what -> first.vegetable(1, what), 4, 4, 0, 0);
+        HarvestBoxes x = twoWeeks();
+        numbersAre("vegetable 0 then", what -> x.vegetable(0, what), 0, 30, 0, 1);
+        numbersAre("vegetable 1 then", what -> x.vegetable(1, what), 0, 3, 1, 0);
+    }
+
+    private static void boxesOfTwoWeeks() {
+        Check.boxes(beforeTheSecondWeek(), "of the first week", new int[][] {{0, 0}, {8, 0}, {5, 4}});
+        Check.boxes(twoWeeks(), "of the second week", new int[][] {{12, 1}, {0, 0}, {18, 2}});
+    }
+
+    private static void likingsOfTwoWeeks() {
+        HarvestBoxes first = packed("Fh10h22h31v13v07l001l110l219s0");
+        numbersAre("for vegetable 0", h -> first.liking(h, 0), 1, 5, 5);
+        numbersAre("for vegetable 1", h -> first.liking(h, 1), 5, 0, 9);
+        HarvestBoxes x = twoWeeks();
+        numbersAre("for vegetable 0 then", h -> x.liking(h, 0), 1, 5, 5);
+        numbersAre("for vegetable 1 then", h -> x.liking(h, 1), 0, 0, 0);
+    }
+
+    private static void orderOfTwoWeeks() {
+        orderIs(beforeTheSecondWeek(), "40, 25 and 0", 1, 2, 0, NONE);
+        orderIs(twoWeeks(), "90, 12 and 0", 2, 0, 1, NONE);
     }
 
     private static HarvestBoxes packed(String text) {

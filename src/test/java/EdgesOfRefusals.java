@@ -21,12 +21,6 @@ final class EdgesOfRefusals {
         Doc.edge("If several exceptions apply to a call, the one that its description names first is thrown.",
                 EdgesOfRefusals::firstOfSeveral);
         Doc.edge("A call that throws an exception changes nothing.", EdgesOfRefusals::nothingChanges);
-        Doc.plain("Ahead of the calls `append`, `clearText`, `errorPosition`, `load` the interface says: ---- text.",
-                "Ahead of the calls `about`, `house`, `vegetable`, `box`, `liking`, `order` the interface says: ---- what there "
-                + "is.", "Ahead of the calls `addHouse`, `addVegetable`, `setHarvest`, `setLiking`, `skip`, `pack`, "
-                + "`returnCrates`, `give`, `undo` the interface says: ---- actions.",
-                "Ahead of the calls `runScript`, `simulate` the interface says: ---- scripts, simulations.",
-                "Ahead of the calls `save`, `restore` the interface says: ---- save slots.");
     }
 
     private static void notThere() {

@@ -17,8 +17,8 @@ final class EdgesOfText {
     static void all() {
         terms();
         Doc.in("Promise 2");
-        Doc.plain("`int append(int c) throws IllegalArgumentException, IllegalStateException`: Appends a character to the text "
-                + "buffer.");
+        Doc.edge("`int append(int c) throws IllegalArgumentException, IllegalStateException`: Appends a character to the text "
+                + "buffer.", EdgesOfText::appends);
         Doc.edge("- `c`: character code, 0 to 255", EdgesOfText::codes);
         Doc.edge("Returns the new length of the text.", EdgesOfText::lengths);
         Doc.edge("Throws `IllegalArgumentException` if c is out of range", EdgesOfText::codesOutOfRange);
@@ -56,7 +56,7 @@ final class EdgesOfText {
         Doc.edge("An l may stand wherever a house and a vegetable were told ahead,", EdgesOfText::placesOfLikings);
         Doc.edge("an s wherever a house was told ahead.", EdgesOfText::placesOfSkips);
         Doc.edge("There are no blanks.", EdgesOfText::blanks);
-        Doc.plain("The text is read from left to right.");
+        Doc.edge("The text is read from left to right.", EdgesOfText::leftToRight);
         Doc.edge("The error position is the index of the first character that these rules do not allow at its place",
                 EdgesOfText::firstOfSeveral);
         Doc.edge("(a digit is not allowed if no number that is allowed begins with it and those before it);",
@@ -231,6 +231,21 @@ final class EdgesOfText {
         error("Fh10v40s 0", 8);
     }
 
+    private static void leftToRight() {
+        error("01hF", 0);
+        error("h10F", 0);
+        error("Fl000v00h10", 1);
+        error("F0s01h", 1);
+        error("Fh01", 2);
+        error("Fh10h0010vF", 5);
+        HarvestBoxes x = Check.farm("Fh12v03h34v21");
+        Check.same("the house on the left", x.house(0, 0), 1);
+        Check.same("its crates on the right", x.house(0, 1), 2);
+        Check.same("the house on the right", x.house(1, 0), 3);
+        Check.same("the vegetable on the left", x.vegetable(0, 0), 3);
+        Check.same("the vegetable on the right", x.vegetable(1, 0), 21);
+    }
+
     private static void firstOfSeveral() {
         error("xF", 0);
         error("Fx", 1);
@@ -268,6 +283,15 @@ final class EdgesOfText {
     /** The lengths at which a part of that text ends. */
     private static boolean partEnds(int length) {
         return length == 1 || length == 4 || length == 7 || length == 11 || length == 13;
+    }
+
+    private static void appends() {
+        HarvestBoxes x = Check.farm("Fh10v07");
+        Check.changes(x, "append of the first sign of a part", () -> x.append('l'), "errorPosition()=8");
+        Check.changes(x, "append of the next one", () -> x.append('0'), "errorPosition()=9");
+        Check.changes(x, "append of one that is not allowed", () -> x.append('1'));
+        Check.changes(x, "append of one behind it", () -> x.append('1'));
+        Check.same("all are there", x.clearText(), 11);
     }
 
     private static void codes() {

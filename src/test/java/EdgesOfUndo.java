@@ -25,11 +25,80 @@ final class EdgesOfUndo {
         Doc.edge("At most 14 states are remembered;", EdgesOfUndo::fourteenStates);
         Doc.edge("when one more is remembered, the oldest one is forgotten.", EdgesOfUndo::fifteenthState);
         Doc.edge("load and restore are not actions.", EdgesOfUndo::noActions);
+        sections();
         Doc.in("Promise 20");
         Doc.edge("`int undo() throws IllegalStateException`: Takes back the last action that is remembered.",
                 EdgesOfUndo::takenBack);
         Doc.edge("Returns how many states are still remembered.", EdgesOfUndo::stillRemembered);
         Doc.edge("Throws `IllegalStateException` if none is remembered", EdgesOfUndo::noneRemembered);
+    }
+
+    /** The section "actions" has the calls that are remembered; those of the other sections are not. */
+    private static void sections() {
+        Doc.edge("Ahead of the calls `append`, `clearText`, `errorPosition`, `load` the interface says: ---- text.",
+                EdgesOfUndo::sectionOfText);
+        Doc.edge("Ahead of the calls `about`, `house`, `vegetable`, `box`, `liking`, `order` the interface says: ---- what there "
+                + "is.", EdgesOfUndo::sectionOfAsking);
+        Doc.edge("Ahead of the calls `addHouse`, `addVegetable`, `setHarvest`, `setLiking`, `skip`, `pack`, `returnCrates`, "
+                + "`give`, `undo` the interface says: ---- actions.", EdgesOfUndo::sectionOfActions);
+        Doc.edge("Ahead of the calls `runScript`, `simulate` the interface says: ---- scripts, simulations.",
+                EdgesOfUndo::sectionOfScripts);
+        Doc.edge("Ahead of the calls `save`, `restore` the interface says: ---- save slots.", EdgesOfUndo::sectionOfSlots);
+    }
+
+    /** Behind the call undo takes back what was done before it. */
+    private static void isNotRemembered(String what, Consumer<HarvestBoxes> call) {
+        HarvestBoxes x = someFarm();
+        x.setHarvest(0, 12);
+        call.accept(x);
+        Check.same("undo behind " + what, x.undo(), 0);
+        Check.same("the harvest before " + what, x.vegetable(0, 0), 11);
+        Check.fails("one more undo behind " + what, BAD_STATE, () -> x.undo());
+    }
+
+    private static void sectionOfText() {
+        isNotRemembered("append", x -> x.append('s'));
+        isNotRemembered("clearText", x -> x.clearText());
+        isNotRemembered("errorPosition", x -> x.errorPosition());
+        HarvestBoxes loaded = someFarm();
+        loaded.setHarvest(0, 12);
+        loaded.load();
+        Check.fails("undo behind load", BAD_STATE, () -> loaded.undo());
+    }
+
+    private static void sectionOfAsking() {
+        isNotRemembered("about", x -> x.about(0));
+        isNotRemembered("house", x -> x.house(0, 0));
+        isNotRemembered("vegetable", x -> x.vegetable(0, 0));
+        isNotRemembered("box", x -> x.box(0, 0));
+        isNotRemembered("liking", x -> x.liking(0, 0));
+        isNotRemembered("order", x -> x.order(0));
+    }
+
+    private static void sectionOfActions() {
+        Check.same("the actions but undo", ACTIONS.size(), 8);
+        for (int kind = 0; kind < ACTIONS.size(); kind++) {
+            HarvestBoxes x = someFarm();
+            x.setHarvest(0, 12);
+            ACTIONS.get(kind).accept(x);
+            Check.same("undo behind action " + kind, x.undo(), 1);
+            Check.same("and what was done before it", x.vegetable(0, 0), 12);
+            Check.same("undo of undo behind action " + kind, x.undo(), 0);
+        }
+    }
+
+    private static void sectionOfScripts() {
+        isNotRemembered("runScript", x -> x.runScript(3, 1009_2001_4000L));
+        isNotRemembered("simulate", x -> x.simulate(5, 3));
+    }
+
+    private static void sectionOfSlots() {
+        isNotRemembered("save", x -> x.save(1));
+        HarvestBoxes x = someFarm();
+        x.save(1);
+        x.setHarvest(0, 12);
+        x.restore(1);
+        Check.fails("undo behind restore", BAD_STATE, () -> x.undo());
     }
 
     /** A farm on which each of the actions can be done. */

@@ -27,7 +27,7 @@ final class EdgesOfWeek {
         Doc.edge("No house skips the next week then,", EdgesOfWeek::nobodySkipsThen);
         Doc.edge("all harvests become 0,", EdgesOfWeek::noHarvestsThen);
         Doc.edge("and the number of weeks grows by 1.", EdgesOfWeek::oneWeekMore);
-        Doc.plain("A house may give kilos of its box away.");
+        Doc.edge("A house may give kilos of its box away.", EdgesOfWeek::anyHouseMayGive);
         Doc.edge("What is harvested is all in boxes, eaten, given away or composted.", EdgesOfWeek::nothingIsLost);
         Doc.in("Promise 17");
         Doc.edge("`int pack()`: Packs a week.", EdgesOfWeek::packsAnyFarm);
@@ -45,7 +45,7 @@ final class EdgesOfWeek {
     }
 
     private static void swaps() {
-        Doc.plain("Then houses swap. A swap is made by two houses a and b,");
+        Doc.edge("Then houses swap. A swap is made by two houses a and b,", EdgesOfWeek::swapsOfGluts);
         Doc.edge("with a < b,", EdgesOfWeek::lowerHouseFirst);
         Doc.edge("and two different vegetables v and w:", EdgesOfWeek::differentVegetables);
         Doc.edge("a gives b a kilo of v, and b gives a a kilo of w;", EdgesOfWeek::oneKiloEach);
@@ -243,6 +243,37 @@ final class EdgesOfWeek {
             x.setLiking(h, v, likings[v]);
         }
         return x;
+    }
+
+    /** Of what all gluts gave, too: house 0 gets the kilo of vegetable 0, house 1 the third one of vegetable 1. */
+    private static void swapsOfGluts() {
+        String others = "l200l210l300l310l400l410l500l510";
+        String all = "Fh10h10h10h10h10h10v01v03l005l016l104l113" + others;
+        gets(all, row(0, 3), row(1, 0), row(0, 0), row(0, 0), row(0, 0), row(0, 0));
+        HarvestBoxes x = Check.farm(all);
+        Check.same("one swap", x.pack(), 1);
+        // If house 1 does not want vegetable 0 more, each house keeps its kilos.
+        gets("Fh10h10h10h10h10h10v01v03l005l016l103l113" + others, row(1, 2), row(0, 1), row(0, 0), row(0, 0), row(0, 0),
+                row(0, 0));
+        // Those without a box have nothing to swap, though house 2 wants all of house 0's vegetable 0.
+        gets("Fh10h10h10v02v02l004l015l105l115l209l210s2", row(1, 1), row(1, 1), row(0, 0));
+    }
+
+    private static void anyHouseMayGive() {
+        HarvestBoxes x = packed("Fh10h12h10v06v09s2");
+        x.skip(0, true);
+        Check.same("one that skips the next week", x.give(0, 0, 3), 0);
+        Check.same("one that owes three crates", x.give(1, 1, 2), 2);
+        Check.same("what is left of it", x.give(1, 1, 2), 0);
+        Check.fails("one with an empty box", IllegalStateException.class, () -> x.give(2, 0, 1));
+        Check.same("given away", x.about(5), 7);
+        x.setHarvest(0, 6);
+        x.skip(0, false);
+        x.pack();
+        // House 2 has a credit, so that house 0 has one of three parts.
+        Check.same("it gets no less in the next week", x.box(0, 0), 2);
+        Check.same("what was given away is not eaten", x.about(4), 15 - 7);
+        Check.same("it stays given away", x.about(5), 7);
     }
 
     private static void lowerHouseFirst() {
@@ -452,6 +483,10 @@ final class EdgesOfWeek {
     }
 
     private static void packsAnyFarm() {
+        HarvestBoxes some = packed("Fh10h22v05v04l019l103");
+        Check.changes(some, "pack without a harvest", () -> some.pack(), "about(2)=2", "about(3)=0", "about(4)=9", "about(7)=5",
+                "house(0, 1)=2", "house(0, 4)=0", "house(0, 5)=0", "house(1, 4)=0", "house(1, 5)=0", "vegetable(0, 1)=0",
+                "vegetable(1, 1)=0", "box(0, 0)=0", "box(0, 1)=0", "box(1, 0)=0", "box(1, 1)=0");
         HarvestBoxes nothing = new HarvestBoxes();
         Check.same("nothing", nothing.pack(), 0);
         Check.same("a week of nothing", nothing.about(2), 1);

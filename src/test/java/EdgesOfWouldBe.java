@@ -13,30 +13,31 @@ final class EdgesOfWouldBe {
         Doc.edge("Ahead of the calls `wouldGet`, `wouldBe`, `bestSkip`, `bestMore`, `firstSwap` the interface says: ---- what "
                 + "would be; these and all following methods up to the save slots change nothing.", EdgesOfWouldBe::changeNothing);
         Doc.in("Promise 21");
-        Doc.plain("`int wouldGet(int h, int v) throws IndexOutOfBoundsException`: Tells what a house would get. - `h`: house - "
-                + "`v`: vegetable");
+        Doc.edge("`int wouldGet(int h, int v) throws IndexOutOfBoundsException`: Tells what a house would get. - `h`: house - "
+                + "`v`: vegetable", EdgesOfWouldBe::wouldGetInTheSecondWeek);
         Doc.edge("Returns the kilos of this vegetable that would be in its box behind pack().", EdgesOfWouldBe::wouldGet);
         Doc.edge("Throws `IndexOutOfBoundsException` if there is no such house or vegetable", EdgesOfWouldBe::wouldGetOfNone);
         Doc.in("Promise 22");
-        Doc.plain("`int wouldBe(int h) throws IndexOutOfBoundsException`: Tells how happy a house would be. - `h`: house");
+        Doc.edge("`int wouldBe(int h) throws IndexOutOfBoundsException`: Tells how happy a house would be. - `h`: house",
+                EdgesOfWouldBe::wouldBeInTheSecondWeek);
         Doc.edge("Returns its happiness behind pack().", EdgesOfWouldBe::wouldBe);
         Doc.edge("Throws `IndexOutOfBoundsException` if there is no such house", EdgesOfWouldBe::wouldBeOfNone);
         Doc.in("Promise 23");
-        Doc.plain("`int bestSkip()`: Tells who should skip.");
+        Doc.edge("`int bestSkip()`: Tells who should skip.", EdgesOfWouldBe::bestSkipOfTheSecondWeek);
         Doc.edge("Returns the house for which the happiness of all other houses together, behind pack(), would be greatest if it "
                 + "skipped the next week,", EdgesOfWouldBe::greatestOfOthers);
         Doc.edge("of those that would get a box;", EdgesOfWouldBe::skipOfThoseWithBox);
         Doc.edge("among several the lowest one;", EdgesOfWouldBe::lowestSkip);
         Doc.edge("NONE if no house would get a box.", EdgesOfWouldBe::noSkip);
         Doc.in("Promise 24");
-        Doc.plain("`int bestMore()`: Tells what one kilo more would please.");
+        Doc.edge("`int bestMore()`: Tells what one kilo more would please.", EdgesOfWouldBe::bestMoreOfTheSecondWeek);
         Doc.edge("Returns the vegetable with a harvest below 40", EdgesOfWouldBe::below40);
         Doc.edge("of which one kilo more would make the happiness of all houses together, behind pack(), greatest,",
                 EdgesOfWouldBe::greatestOfAll);
         Doc.edge("among several the lowest one;", EdgesOfWouldBe::lowestMore);
         Doc.edge("NONE if there is none.", EdgesOfWouldBe::noMore);
         Doc.in("Promise 25");
-        Doc.plain("`int firstSwap()`: Finds a swap.");
+        Doc.edge("`int firstSwap()`: Finds a swap.", EdgesOfWouldBe::firstSwapOfTheFirstWeek);
         Doc.edge("Returns 1000 * a + 100 * b + 10 * v + w of the swap that would be made first with the boxes as they are now;",
                 EdgesOfWouldBe::firstSwaps);
         Doc.edge("NONE if there is none.", EdgesOfWouldBe::noSwap);
@@ -56,6 +57,49 @@ final class EdgesOfWouldBe {
         Twins.keepAlways("runScript of nothing", x -> x.runScript(1, 0));
         Twins.keepAlways("simulate of a week", x -> x.simulate(MIN, 1));
         Twins.keepAlways("simulate of 30 weeks", x -> x.simulate(Long.MAX_VALUE, 30));
+    }
+
+    private static void wouldGetInTheSecondWeek() {
+        HarvestBoxes x = EdgesOfAsking.beforeTheSecondWeek();
+        int[][] due = {{12, 1}, {0, 0}, {18, 2}};
+        for (int cell = 0; cell < 6; cell++) {
+            Check.same("wouldGet of cell " + cell, x.wouldGet(cell / 2, cell % 2), due[cell / 2][cell % 2]);
+        }
+        Check.boxes(x, "that are there", new int[][] {{0, 0}, {8, 0}, {5, 4}});
+    }
+
+    private static void wouldBeInTheSecondWeek() {
+        HarvestBoxes x = EdgesOfAsking.beforeTheSecondWeek();
+        int[] due = {12, 0, 90};
+        int[] present = {0, 40, 25};
+        for (int h = 0; h < 3; h++) {
+            Check.same("wouldBe(" + h + ")", x.wouldBe(h), due[h]);
+            Check.same("it is not yet", x.house(h, 5), present[h]);
+        }
+    }
+
+    /** Without house 0 the happiness of house 2 would be 150, without house 2 that of house 0 would be 30. */
+    private static void bestSkipOfTheSecondWeek() {
+        HarvestBoxes x = EdgesOfAsking.beforeTheSecondWeek();
+        Check.same("bestSkip()", x.bestSkip(), 0);
+        x.setLiking(0, 0, 6);
+        Check.same("when house 0 likes it more", x.bestSkip(), 2);
+    }
+
+    /** 102 without it; a kilo more of vegetable 0 is glut that house 2 likes, one more of vegetable 1 is liked by nobody. */
+    private static void bestMoreOfTheSecondWeek() {
+        HarvestBoxes x = EdgesOfAsking.beforeTheSecondWeek();
+        Check.same("bestMore()", x.bestMore(), 0);
+        x.setLiking(0, 1, 9);
+        Check.same("when house 0 likes the other one", x.bestMore(), 1);
+    }
+
+    private static void firstSwapOfTheFirstWeek() {
+        HarvestBoxes x = EdgesOfAsking.beforeTheSecondWeek();
+        Check.same("none", x.firstSwap(), NONE);
+        // House 1 likes vegetable 1 more than vegetable 0 then, and house 2 the other way round.
+        x.setLiking(1, 1, 6);
+        Check.same("firstSwap()", x.firstSwap(), 1201);
     }
 
     private static void wouldGet() {

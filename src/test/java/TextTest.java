@@ -69,9 +69,7 @@ public final class TextTest {
         Check.same("the text is new", x.errorPosition(), HarvestBoxes.NONE);
         Check.fails("clearText is no action", BAD_STATE, () -> x.undo());
         HarvestBoxes y = Check.farm("Fh10v07");
-        String before = Check.pictureOf(y).replace("text -9", "text 0");
-        y.clearText();
-        Check.same("clearText keeps the farm", Check.pictureOf(y), before);
+        Check.changes(y, "clearText", () -> y.clearText(), "errorPosition()=0");
     }
 
     private static void error(String text, int due) {
