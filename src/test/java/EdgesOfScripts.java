@@ -104,6 +104,11 @@ final class EdgesOfScripts {
             script(x, 2, 6005_8001L, 1);
             script(x, 2, 5010_5010L, 1);
         }
+        HarvestBoxes credit = Check.farm("Fh10h10v00s0");
+        credit.pack();
+        // Two and one parts of six kilos, with the credit that there is.
+        script(credit, 3, 1006_4000_8004L, NONE);
+        script(credit, 3, 1006_4000_8005L, 2);
         Twins.keepAlways("each command", y -> {
             y.runScript(4, 1040_2009_3010_4000L);
             y.runScript(4, 5010_6001_6011_4000L);
@@ -420,6 +425,11 @@ final class EdgesOfScripts {
         int first = x.simulate(7, 30);
         Check.same("the same again", x.simulate(7, 30), first);
         Check.same("as by the actions", byActions(x, 7, 30), first);
+        HarvestBoxes credit = Check.farm("Fh10h10v00l000l100s1");
+        credit.pack();
+        int composted = credit.simulate(1, 5);
+        Check.same("with the credit that there is", byActions(credit, 1, 5), composted);
+        Check.same("as it is without that credit, but for a kilo", Check.farm("Fh11h10v00l000l100").simulate(1, 5) + 1000, composted);
         Twins.keepAlways("simulate", y -> y.simulate(7, 30));
     }
 

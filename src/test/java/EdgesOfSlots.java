@@ -89,6 +89,11 @@ final class EdgesOfSlots {
         x.pack();
         x.restore(0);
         Check.same("by the state of a full farm", Check.pictureOf(x), Check.pictureOf(Check.farm(Twins.FULL_TEXT)));
+        HarvestBoxes compost = Check.farm("Fh10v00v00v00v00v40s0");
+        compost.save(1);
+        compost.pack();
+        compost.restore(1);
+        Check.same("composted of the last vegetable of five", compost.vegetable(4, 2), 0);
         HarvestBoxes y = new HarvestBoxes();
         y.save(1);
         Check.write(y, "Fh10v07");

@@ -383,9 +383,37 @@ final class EdgesOfText {
         Check.write(y, Twins.FULL_TEXT);
         y.load();
         Check.same("by the greatest farm", Check.pictureOf(y), Check.pictureOf(Check.farm(Twins.FULL_TEXT)));
+        replacedOnTheWhole();
         HarvestBoxes again = Twins.full();
         again.load();
         Check.same("by the same farm again", Check.pictureOf(again), Check.pictureOf(Check.farm(Twins.FULL_TEXT)));
+    }
+
+    /** Each house and each vegetable, the first and the last ones too, is as the text tells it, whatever was tried before. */
+    private static void replacedOnTheWhole() {
+        String plain = "Fh10h10h10h10h10h10v40v40v40v40v40";
+        String fresh = Check.pictureOf(Check.farm(plain));
+        String marks = plain + "s0s1s2s3s4s5";
+        String likings = plain + "l009l048l101l242l317l428l500l549";
+        String crates = "Fh49h49h49h49h49h49v00v01v02v03v04";
+        for (String other : new String[] {plain, marks, likings, crates}) {
+            HarvestBoxes tried = Check.farm(other);
+            tried.wouldGet(5, 4);
+            tried.wouldBe(0);
+            Check.write(tried, plain);
+            tried.load();
+            Check.same("behind what would be of " + other, Check.pictureOf(tried), fresh);
+            HarvestBoxes packed = Check.farm(other);
+            packed.pack();
+            Check.write(packed, plain);
+            packed.load();
+            Check.same("behind a week of " + other, Check.pictureOf(packed), fresh);
+            HarvestBoxes checked = Check.withText(other);
+            checked.errorPosition();
+            Check.write(checked, plain);
+            checked.load();
+            Check.same("behind the check of " + other, Check.pictureOf(checked), fresh);
+        }
     }
 
     private static void accountsOfLoaded() {

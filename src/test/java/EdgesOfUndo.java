@@ -248,6 +248,12 @@ final class EdgesOfUndo {
             Check.same("behind " + times + " actions", Check.pictureOf(x), Check.pictureOf(withLastActions(times)));
         }
         lastHouseTakenBack();
+        HarvestBoxes compost = Check.farm("Fh10v00v00v00v00v40s0");
+        compost.pack();
+        Check.same("composted of the last vegetable of five", compost.vegetable(4, 2), 40);
+        compost.undo();
+        Check.same("and taken back", compost.vegetable(4, 2), 0);
+        Check.same("in all", compost.about(6), 0);
     }
 
     /** All of the last house too: of six, its size, crates, credit, mark, liking and box. */

@@ -86,6 +86,13 @@ final class EdgesOfWeek {
         Check.same("those that skip have empty boxes too", x.about(3), 0);
         x.pack();
         Check.same("of empty boxes nothing is eaten", x.about(4), 7);
+        HarvestBoxes full = packed("Fh10h10h10h10h10h10v40v40v40v40v40");
+        for (int h = 0; h < 6; h++) {
+            full.skip(h, true);
+        }
+        full.pack();
+        Check.same("all thirty are empty", full.about(3), 0);
+        Check.same("all of them were eaten", full.about(4), 200);
     }
 
     private static void whoGetsABox() {
@@ -382,9 +389,21 @@ final class EdgesOfWeek {
         HarvestBoxes y = Check.farm("Fh10h10v02v02l009l011l101l119");
         Check.same("one kilo", y.pack(), 1);
         Check.same("then there is none", y.firstSwap(), NONE);
+        theMostSwaps();
         HarvestBoxes full = Check.farm(Twins.FULL_TEXT);
         Check.holds("many in a full farm", full.pack() > 9);
         Check.same("then there is none", full.firstSwap(), NONE);
+    }
+
+    /** The most that were found by a search over likings; the number is the one that PlainFarm answers. */
+    private static void theMostSwaps() {
+        HarvestBoxes x = Check.farm("Fh30h40h10h40h40h40v40v40v40v40v40");
+        int[][] likings = {{4, 7, 8, 6, 9}, {3, 1, 0, 5, 4}, {5, 2, 3, 7, 8}, {6, 9, 6, 0, 1}, {0, 0, 9, 7, 8}, {9, 1, 6, 0, 8}};
+        for (int h = 0; h < likings.length; h++) {
+            likes(x, h, likings[h]);
+        }
+        Check.same("the most swaps", x.pack(), 138);
+        Check.same("then there is none", x.firstSwap(), NONE);
     }
 
     private static void oneCrateMore() {

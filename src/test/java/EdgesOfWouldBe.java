@@ -169,6 +169,8 @@ final class EdgesOfWouldBe {
         bestSkip("Fh10h10v02l001l109", 0);
         // Without house 0 the others have 45, without house 1 53, without house 2 52.
         bestSkip("Fh40h10h10v06l009l107l208", 1);
+        // Without house 0 the others have 45, without house 1 36, without house 2 34: what house 0 would lose does not count.
+        bestSkip("Fh40h10h10v06l005l107l208", 0);
         bestSkip("Fh10h10h10h10h10h10v30l001l101l201l301l401l500", 5);
         bestSkip("Fh10h10h10h10h10h10v30l000l101l201l301l401l501", 0);
         HarvestBoxes later = new HarvestBoxes();
@@ -178,12 +180,37 @@ final class EdgesOfWouldBe {
         later.addVegetable(2);
         later.setLiking(0, 0, 9);
         Check.same("another one that came just now", later.bestSkip(), 1);
+        skipAmongOthers();
         // The box of the week before, also of the house that would skip, is eaten behind pack().
         HarvestBoxes x = Check.farm("Fh10h10v40l009l100");
         x.skip(1, true);
         x.pack();
         x.setHarvest(0, 2);
         Check.same("the happy box of house 0 is eaten", x.bestSkip(), 1);
+        // Nor does a box speak for its house: without house 0 the happiness is 18, without house 1 it is 2.
+        x.setLiking(0, 0, 1);
+        x.setLiking(1, 0, 9);
+        Check.same("house 0 has 40 kilos", x.bestSkip(), 0);
+    }
+
+    /** A farm behind a week without a harvest, so that those who skipped have a credit. */
+    private static HarvestBoxes withCredits(String text, int... harvests) {
+        HarvestBoxes x = Check.farm(text);
+        x.pack();
+        for (int v = 0; v < harvests.length; v++) {
+            x.setHarvest(v, harvests[v]);
+        }
+        return x;
+    }
+
+    /** The other houses are as they are: those that skip or owe three crates get nothing, those with a credit get more. */
+    private static void skipAmongOthers() {
+        // Without house 0 the others have 30, without house 1 38, without house 2, which has two parts, 42.
+        Check.same("a credit", withCredits("Fh10h10h10v00l009s2", 6).bestSkip(), 2);
+        // House 1 gets nothing: 0 without house 0, 5 without house 2.
+        bestSkip("Fh10h10h40v01l200s1", 2);
+        // House 1 gets nothing: 2 without house 0, 5 without house 2.
+        bestSkip("Fh10h13h20v01l202", 2);
     }
 
     private static void skipOfThoseWithBox() {
@@ -238,7 +265,21 @@ final class EdgesOfWouldBe {
         bestMore("Fh10h10v00v02l002l011l105l111", 0);
         // 28 with a kilo more of vegetable 0, 27 with one of vegetable 1: all houses together, behind a swap.
         bestMore("Fh10h10v02v02l004l015l106l113", 0);
+        // 18 and 5 by a kilo more: the second one of vegetable 0 is glut, the third one would make it a share of each.
+        bestMore("Fh10h10h10v01v00l009l100l200", 0);
+        // 9 and 16 or 18 and 8, each less than the 18 and 16 that there would be without a kilo more.
+        bestMore("Fh10h10h10v02v02l009l100l200l018l110l210", 1);
+        moreAmongOthers();
         moreOfWhatCameJustNow();
+    }
+
+    private static void moreAmongOthers() {
+        // House 0, with two parts of three, gets 6 of 9 kilos of vegetable 0: 61 and 65.
+        Check.same("a credit", withCredits("Fh10h10v00v00l001s0", 8, 8).bestMore(), 1);
+        // House 1 alone gets a box, and likes both alike.
+        bestMore("Fh10h10v01v04l000s0", 0);
+        // House 0 alone gets a box, and likes both alike.
+        bestMore("Fh10h13v01v02l100", 0);
     }
 
     private static void moreOfWhatCameJustNow() {
@@ -290,6 +331,26 @@ final class EdgesOfWouldBe {
         Check.same("the boxes are as they are now", x.firstSwap(), 101);
         x.give(0, 0, 1);
         Check.same("without its vegetable 0 house 0 swaps with house 4", x.firstSwap(), 441);
+        firstOfSeveralSwaps();
+    }
+
+    /** Swaps with the same gain: the one with the lowest a, then b, then v, then w would be made first. */
+    private static void firstOfSeveralSwaps() {
+        // 0 with 3 (0 for 1), 1 with 2 (2 for 3) and 1 with 3 (0 for 1).
+        HarvestBoxes x = Check.farm("Fh10h10h10h10v04v04v04v04");
+        x.pack();
+        int[][] likings = {{5, 6, 5, 5}, {5, 6, 5, 6}, {5, 6, 6, 5}, {6, 5, 5, 5}};
+        for (int cell = 0; cell < 16; cell++) {
+            x.setLiking(cell / 4, cell % 4, likings[cell / 4][cell % 4]);
+        }
+        Check.same("the lowest a, though its b is not the lowest", x.firstSwap(), 301);
+        // 0 with 1 (1 for 2) and 0 with 2 (0 for 2).
+        HarvestBoxes y = Check.farm("Fh10h10h10v03v03v03");
+        y.pack();
+        y.setLiking(0, 2, 6);
+        y.setLiking(1, 1, 6);
+        y.setLiking(2, 0, 6);
+        Check.same("the lowest b, though its v is not the lowest", y.firstSwap(), 112);
     }
 
     private static void noSwap() {
